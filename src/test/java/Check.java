@@ -1,0 +1,51 @@
+/** Counts the answers of a test that are as due, and prints those that are not. */
+final class Check {
+    private static int right;
+    private static int wrong;
+
+    private Check() {
+    }
+
+    static void due(String call, long got, long want) {
+        if (got == want) {
+            right++;
+        } else {
+            wrong++;
+            if (wrong <= 50) {
+                System.out.println(call + " answered " + got + ", due is " + want);
+            }
+        }
+    }
+
+    static void so(String what, boolean so) {
+        due(what, so ? 1 : 0, 1);
+    }
+
+    /** Feeds a text to the tape, which has room for it. */
+    static void feed(OtherSide x, String text) {
+        for (int i = 0; i < text.length(); i++) {
+            x.feed(text.charAt(i));
+        }
+    }
+
+    /** Feeds a text and makes it the law. */
+    static int law(OtherSide x, String text) {
+        feed(x, text);
+        return x.law();
+    }
+
+    /** A shelf comes to hold a row of bytes. */
+    static void bytes(OtherSide x, int shelf, int... values) {
+        x.row(shelf, 0, values.length);
+        for (int i = 0; i < values.length; i++) {
+            x.put(shelf, i, values[i]);
+        }
+    }
+
+    static void end(String test) {
+        System.out.println(test + ": " + right + " answers as due, " + wrong + " not");
+        if (wrong != 0 || right == 0) {
+            System.exit(1);
+        }
+    }
+}
