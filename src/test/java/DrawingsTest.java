@@ -1,0 +1,326 @@
+import java.util.Random;
+
+/** Promises 22 to 28: drawn, draw, putBack, image, back, undo, redo. */
+public final class DrawingsTest {
+    public static void main(String[] args) {
+        refusals();
+        randomDrawn();
+        randomDraw();
+        weightsAheadOfDrawing();
+        putBack();
+        putBackOverMended();
+        images();
+        cardsSinceTheImage();
+        undone();
+        fortyAtMost();
+        undoneEachKind();
+        noChanges();
+        undoneBehindDeeds();
+        Check.end("DrawingsTest");
+    }
+
+    private static void refusals() {
+        OtherSide x = new OtherSide();
+        Check.due("drawn from none", x.drawn(1, 1, 0), OtherSide.STATE);
+        Check.due("draw from none", x.draw(1), OtherSide.STATE);
+        Check.due("BAD is named first", x.drawn(1, 0, 0), OtherSide.BAD);
+        x.card(110);
+        Check.due("drawn of no many", x.drawn(1, 1, 0), OtherSide.STATE);
+        Check.due("draw of no many", x.draw(1), OtherSide.STATE);
+        x.mend(0, 0, 9);
+        int[] times = {0, -1, 61, Integer.MIN_VALUE, Integer.MAX_VALUE};
+        for (int n : times) {
+            Check.due("n " + n, x.drawn(1, n, 100), OtherSide.BAD);
+        }
+        int[] bad = {-1, -100, 2, 9, 102, 60, 61, 160, 600, 601, 700, 10000, Integer.MIN_VALUE, Integer.MAX_VALUE};
+        for (int cdw : bad) {
+            Check.due("cdw " + cdw, x.drawn(1, 1, cdw), OtherSide.BAD);
+        }
+        Check.due("sixty", x.drawn(1, 60, 100), 60);
+        Check.due("sixty, the other side", x.drawn(1, 60, 111), 60);
+        Check.due("nothing is laid aside", x.count(1), 0);
+        Check.due("nothing is led", x.of(1, 13), 0);
+        Check.due("no latest", x.of(0, 14), OtherSide.NOT);
+    }
+
+    private static OtherSide hat(Random random) {
+        String[] laws = {"", "s+1", "3*s", "a", "m", "n%2+s", "a=1?3;s", "m>2?s;1"};
+        OtherSide x = new OtherSide();
+        int cards = 1 + random.nextInt(8);
+        for (int i = 0; i < cards; i++) {
+            x.card(random.nextInt(6) * 100 + random.nextInt(6) * 10 + random.nextInt(10));
+        }
+        Check.law(x, laws[random.nextInt(laws.length)]);
+        return x;
+    }
+
+    /** The next of a seed: the seed first, then the card by it; then the side. */
+    private static int[] oneDrawn(OtherSide x, int seed) {
+        int z = seed * 1103515245 + 12345;
+        int place = (z >>> 8) % x.of(0, 15);
+        int card = 0;
+        while (place >= x.of(card, 0)) {
+            place -= x.of(card, 0);
+            card++;
+        }
+        z = z * 1103515245 + 12345;
+        int side = (z >>> 8) % (x.weight(card, 0) + x.weight(card, 1)) < x.weight(card, 0) ? 0 : 1;
+        return new int[] {z, card, side};
+    }
+
+    private static void randomDrawn() {
+        Random random = new Random(5);
+        for (int run = 0; run < 300; run++) {
+            OtherSide x = hat(random);
+            int seed = run == 0 ? 0 : random.nextInt();
+            int n = 1 + random.nextInt(60);
+            int c = random.nextInt(6);
+            int d = random.nextInt(6);
+            if (x.of(0, 15) == 0) {
+                Check.due("none", x.drawn(seed, n, 0), OtherSide.STATE);
+                continue;
+            }
+            int shown = 0;
+            int both = 0;
+            int z = seed;
+            for (int i = 0; i < n; i++) {
+                int[] one = oneDrawn(x, z);
+                z = one[0];
+                if (x.of(one[1], 1 + one[2]) == c) {
+                    shown++;
+                    both += x.of(one[1], 2 - one[2]) == d ? 1 : 0;
+                }
+            }
+            Check.due("drawn", x.drawn(seed, n, 100 * c + 10 * d), shown);
+            Check.due("drawn, the other side", x.drawn(seed, n, 100 * c + 10 * d + 1), both);
+            Check.due("drawn once more", x.drawn(seed, n, 100 * c + 10 * d), shown);
+        }
+    }
+
+    private static void randomDraw() {
+        Random random = new Random(6);
+        for (int run = 0; run < 100; run++) {
+            OtherSide x = hat(random);
+            int[] led = new int[6];
+            int aside = 0;
+            while (x.of(0, 15) > 0) {
+                int seed = random.nextInt();
+                int[] one = oneDrawn(x, seed);
+                int many = x.of(one[1], 0);
+                int was = x.of(one[1], 12);
+                int colour = x.of(one[1], 1 + one[2]);
+                Check.due("draw", x.draw(seed), 10 * colour + x.of(one[1], 2 - one[2]));
+                aside++;
+                led[colour]++;
+                Check.due("MANY", x.of(one[1], 0), many - 1);
+                Check.due("aside", x.of(one[1], 12), was + 1);
+                Check.due("all aside", x.count(1), aside);
+                Check.due("latest", x.of(0, 14), one[1]);
+                for (int c = 0; c < 6; c++) {
+                    Check.due("led", x.of(c, 13), led[c]);
+                }
+            }
+            Check.due("empty", x.draw(0), OtherSide.STATE);
+            Check.due("all are put back", x.putBack(), aside);
+            Check.due("all in the hat", x.of(0, 15), aside);
+        }
+    }
+
+    private static void weightsAheadOfDrawing() {
+        OtherSide x = new OtherSide();
+        x.card(12);
+        Check.law(x, "m=2?s;m=1?!s;1");
+        Check.due("of two the second side", x.draw(1), 10);
+        Check.due("of one the first side", x.draw(1), 1);
+    }
+
+    private static void putBack() {
+        OtherSide x = new OtherSide();
+        Check.due("nothing aside", x.putBack(), 0);
+        x.card(112);
+        x.draw(1);
+        x.draw(1);
+        Check.due("two", x.putBack(), 2);
+        Check.due("none any more", x.putBack(), 0);
+        Check.due("MANY", x.of(0, 0), 2);
+        Check.due("aside", x.of(0, 12), 0);
+        Check.due("still led", x.of(1, 13), 2);
+        Check.due("still the latest", x.of(0, 14), 0);
+    }
+
+    private static void putBackOverMended() {
+        OtherSide x = new OtherSide();
+        x.card(119);
+        x.draw(1);
+        x.draw(1);
+        Check.due("mend", x.mend(0, 0, 9), 7);
+        Check.due("all are put back", x.putBack(), 2);
+        Check.due("all of it", x.of(0, 0), 11);
+        Check.due("all in the hat", x.of(0, 15), 11);
+        Check.due("what it was", x.mend(0, 0, 3), 11);
+        Check.due("undone", x.undo(), 1);
+        Check.due("as it was", x.of(0, 0), 11);
+    }
+
+    private static void images() {
+        OtherSide x = new OtherSide();
+        Check.due("none yet", x.back(), OtherSide.STATE);
+        x.card(114);
+        x.card(220);
+        x.draw(1);
+        Check.due("three in the hat", x.image(), 3);
+        x.draw(1);
+        x.mend(1, 0, 5);
+        x.mend(1, 1, 3);
+        x.mend(0, 3, 7);
+        while (x.of(1, 0) == 5) {
+            x.draw(x.of(0, 15));
+        }
+        Check.due("the latest", x.of(0, 14), 1);
+        Check.due("laid back", x.back(), 3);
+        Check.due("MANY", x.of(0, 0), 3);
+        Check.due("MANY of the other", x.of(1, 0), 0);
+        Check.due("aside", x.of(0, 12), 1);
+        Check.due("aside of the other", x.of(1, 12), 0);
+        Check.due("led", x.of(1, 13), 1);
+        Check.due("led no more", x.of(3, 13) + x.of(2, 13), 0);
+        Check.due("the latest then", x.of(0, 14), 0);
+        Check.due("sides stay", x.of(1, 1), 3);
+        Check.due("urns stay", x.of(0, 3), 7);
+        Check.due("changes stay", x.count(3), 3);
+        x.putBack();
+        Check.due("laid back again", x.back(), 3);
+        Check.due("aside again", x.count(1), 1);
+        x.putBack();
+        Check.due("another image", x.image(), 4);
+        x.draw(1);
+        Check.due("laid back", x.back(), 4);
+    }
+
+    private static void cardsSinceTheImage() {
+        OtherSide x = new OtherSide();
+        x.card(1);
+        Check.due("one", x.image(), 1);
+        x.card(119);
+        x.draw(1);
+        while (x.of(0, 0) == 1 || x.of(1, 12) == 0) {
+            x.draw(x.of(0, 15) * 7);
+        }
+        int left = x.of(1, 0);
+        int aside = x.of(1, 12);
+        Check.due("laid back", x.back(), 1 + left);
+        Check.due("the card since stays", x.of(1, 0), left);
+        Check.due("aside it stays", x.of(1, 12), aside);
+        Check.due("led of then", x.of(1, 13), 0);
+        Check.due("latest of then", x.of(0, 14), OtherSide.NOT);
+        Check.due("still two cards", x.count(0), 2);
+        Check.due("put back", x.putBack(), aside);
+        OtherSide y = new OtherSide();
+        Check.due("an image of none", y.image(), 0);
+        y.card(115);
+        Check.due("laid back", y.back(), 5);
+    }
+
+    private static void undone() {
+        OtherSide x = new OtherSide();
+        Check.due("none", x.undo(), OtherSide.STATE);
+        Check.due("none again", x.redo(), OtherSide.STATE);
+        x.mend(0, 3, 2);
+        x.mend(0, 3, 5);
+        x.mend(0, 3, 5);
+        Check.due("three", x.count(3), 3);
+        Check.due("two left", x.undo(), 2);
+        Check.due("one left", x.undo(), 1);
+        Check.due("is 2", x.of(0, 3), 2);
+        Check.due("two again", x.redo(), 1);
+        Check.due("is 5", x.of(0, 3), 5);
+        Check.due("none again", x.redo(), 0);
+        Check.due("STATE", x.redo(), OtherSide.STATE);
+        x.undo();
+        x.undo();
+        Check.due("a BAD one is none", x.mend(0, 3, 10), OtherSide.BAD);
+        x.card(1);
+        x.draw(1);
+        x.putBack();
+        Check.due("deeds are none", x.redo(), 1);
+        x.mend(0, 4, 9);
+        Check.due("another came behind", x.redo(), OtherSide.STATE);
+        Check.due("is 5", x.of(0, 3), 5);
+        Check.due("one left", x.undo(), 2);
+        Check.due("white as at first", x.of(0, 4), 1);
+        x.undo();
+        Check.due("the first one", x.undo(), 0);
+        Check.due("red as at first", x.of(0, 3), 1);
+        Check.due("STATE", x.undo(), OtherSide.STATE);
+    }
+
+    private static void fortyAtMost() {
+        OtherSide x = new OtherSide();
+        for (int i = 1; i <= 97; i++) {
+            x.mend(0, 7, i);
+            Check.due("kept", x.count(3), Math.min(i, 40));
+        }
+        for (int i = 39; i >= 0; i--) {
+            Check.due("undo", x.undo(), i);
+            Check.due("price", x.of(0, 7), 57 + i);
+        }
+        Check.due("no more", x.undo(), OtherSide.STATE);
+        for (int i = 39; i >= 0; i--) {
+            Check.due("redo", x.redo(), i);
+            Check.due("price", x.of(0, 7), 97 - i);
+        }
+        for (int i = 0; i < 15; i++) {
+            x.undo();
+        }
+        x.mend(0, 7, 1);
+        Check.due("one behind", x.count(3), 26);
+        Check.due("none again", x.redo(), OtherSide.STATE);
+        x.undo();
+        Check.due("price", x.of(0, 7), 82);
+    }
+
+    private static void undoneEachKind() {
+        int[] numbers = {2, 2, 2, 4, 4, 4, 4, 4, 6, 1, 1, 3};
+        for (int what = 0; what < 12; what++) {
+            for (int number = 0; number < numbers[what]; number++) {
+                OtherSide x = new OtherSide();
+                x.card(123);
+                x.card(453);
+                int was = x.of(number, what);
+                x.mend(number, what, 0);
+                Check.due("undo", x.undo(), 0);
+                Check.due("undone " + what + " of " + number, x.of(number, what), was);
+                Check.due("redo", x.redo(), 0);
+                Check.due("done again " + what + " of " + number, x.of(number, what), 0);
+            }
+        }
+    }
+
+    private static void noChanges() {
+        OtherSide x = new OtherSide();
+        Check.bytes(x, 0, 1, 2, 3);
+        x.cards(0, 0, 1);
+        x.card(111);
+        Check.law(x, "s");
+        x.draw(1);
+        x.putBack();
+        x.image();
+        x.back();
+        x.body(0);
+        x.act(0, 0, 0);
+        Check.due("none of these is a change", x.count(3), 0);
+        Check.due("STATE", x.undo(), OtherSide.STATE);
+    }
+
+    private static void undoneBehindDeeds() {
+        OtherSide x = new OtherSide();
+        x.card(113);
+        x.mend(0, 0, 5);
+        x.draw(1);
+        Check.due("undo", x.undo(), 0);
+        Check.due("as it was", x.of(0, 0), 3);
+        Check.due("still aside", x.of(0, 12), 1);
+        Check.due("redo", x.redo(), 0);
+        Check.due("becomes what it became", x.of(0, 0), 5);
+    }
+}

@@ -1,0 +1,319 @@
+import java.util.Random;
+
+/** Promises 9 to 14: shown, other, which, again, cheated, judge. */
+public final class ShowingsTest {
+    private static final long NONE = Long.MIN_VALUE;
+    private static final String[] LAWS = {"", "s+1", "3*s", "a", "a<b", "m", "3-m", "n", "m%3;", "a=1?3;s", "a+b-n", "m>2?s;1",
+        "!s", "m=10?0-s+1;2"};
+
+    public static void main(String[] args) {
+        threeCards();
+        refusals();
+        rowRefusals();
+        cheatedEdges();
+        judgeEdges();
+        lawCountsTheOneMore();
+        lawCountsTheTenth();
+        randomHats();
+        fullHats();
+        Check.end("ShowingsTest");
+    }
+
+    private static void due(String what, long above, long below, Ratio want) {
+        Check.due(what + " above", above, want.part(0));
+        Check.due(what + " below", below, want.part(1));
+    }
+
+    private static void threeCards() {
+        OtherSide x = new OtherSide();
+        x.card(1);
+        x.card(111);
+        x.card(11);
+        due("shown", x.shown(0, 0), x.shown(0, 1), Ratio.of(1, 2));
+        due("the other side", x.other(0, 0), x.other(0, 1), Ratio.of(2, 3));
+        due("which", x.which(0, 1, 0), x.which(0, 1, 1), Ratio.of(2, 3));
+        due("again", x.again(1, 0), x.again(1, 1), Ratio.of(5, 6));
+        Check.law(x, "s=0");
+        due("only first sides: shown", x.shown(0, 0), x.shown(0, 1), Ratio.of(2, 3));
+        due("only first sides: other", x.other(0, 0), x.other(0, 1), Ratio.of(1, 2));
+        due("never shown", x.other(11, 0), x.other(11, 1), Ratio.of(1, 1));
+        due("cannot be", x.other(20, 0), x.other(20, 1), Ratio.ZERO);
+        due("cannot be", x.which(0, 21, 0), x.which(0, 21, 1), Ratio.ZERO);
+        due("cannot be", x.again(21, 0), x.again(21, 1), Ratio.ZERO);
+    }
+
+    private static void refusals() {
+        OtherSide x = new OtherSide();
+        x.card(11);
+        int[] parts = {-1, 2, 100, Integer.MIN_VALUE, Integer.MAX_VALUE};
+        for (int part : parts) {
+            Check.due("shown part", x.shown(0, part), NONE);
+            Check.due("other part", x.other(0, part), NONE);
+            Check.due("which part", x.which(0, 1, part), NONE);
+            Check.due("again part", x.again(1, part), NONE);
+        }
+        int[] colours = {-1, 6, 255, Integer.MIN_VALUE, Integer.MAX_VALUE};
+        for (int c : colours) {
+            Check.due("shown " + c, x.shown(c, 0), NONE);
+        }
+        int[] pairs = {-1, -10, 6, 9, 16, 56, 60, 100, Integer.MIN_VALUE, Integer.MAX_VALUE};
+        for (int cd : pairs) {
+            Check.due("other " + cd, x.other(cd, 0), NONE);
+        }
+        int[] times = {-1, 0, 5, 9, 10, 15, 50, 55, 60, 61, 101, Integer.MIN_VALUE, Integer.MAX_VALUE};
+        for (int ck : times) {
+            Check.due("which " + ck, x.which(0, ck, 0), NONE);
+            Check.due("again " + ck, x.again(ck, 0), NONE);
+        }
+        int[] cards = {-1, 1, 7, 8, Integer.MIN_VALUE, Integer.MAX_VALUE};
+        for (int n : cards) {
+            Check.due("which card " + n, x.which(n, 1, 0), NONE);
+        }
+        Check.due("54", x.again(54, 1), 1);
+    }
+
+    private static void rowRefusals() {
+        OtherSide x = new OtherSide();
+        x.card(1);
+        int[] shelves = {-1, 6, Integer.MIN_VALUE, Integer.MAX_VALUE};
+        for (int shelf : shelves) {
+            Check.due("cheated shelf", x.cheated(shelf), OtherSide.BAD);
+            Check.due("judge shelf", x.judge(shelf), OtherSide.BAD);
+        }
+        Check.due("cheated nothing", x.cheated(0), -11);
+        Check.due("judge nothing", x.judge(0), -11);
+        for (int sort = 1; sort < 5; sort++) {
+            x.row(0, sort, 2);
+            Check.due("cheated sort", x.cheated(0), -12);
+            Check.due("judge sort", x.judge(0), -12);
+            x.row(0, sort, 5);
+            Check.due("cheated long sort", x.cheated(0), -12);
+        }
+        x.body(0);
+        x.keep(0, 0);
+        Check.due("cheated body", x.cheated(0), -12);
+        Check.due("judge body", x.judge(0), -12);
+    }
+
+    private static void cheatedEdges() {
+        OtherSide x = new OtherSide();
+        Check.bytes(x, 0);
+        Check.due("no cards, none shown", x.cheated(0), OtherSide.NOT);
+        Check.bytes(x, 0, 1);
+        Check.due("no cards", x.cheated(0), OtherSide.NOT);
+        x.card(110);
+        x.card(110);
+        Check.due("the least number of like ones", x.cheated(0), 0);
+        x.mend(0, 0, 4);
+        Check.due("as likely as it is", x.cheated(0), OtherSide.NOT);
+        x.card(9);
+        Check.due("of the right colour", x.cheated(0), 0);
+        Check.bytes(x, 0, 1, 0, 1);
+        Check.due("two of three", x.cheated(0), 0);
+        Check.bytes(x, 0, 2);
+        Check.due("of no card", x.cheated(0), OtherSide.NOT);
+        Check.bytes(x, 0);
+        Check.due("none shown", x.cheated(0), OtherSide.NOT);
+        Check.bytes(x, 0, 1, 1, 1, 1);
+        Check.due("four", x.cheated(0), OtherSide.BAD);
+        Check.bytes(x, 0, 1, 6, 1);
+        Check.due("6", x.cheated(0), OtherSide.BAD);
+        Check.bytes(x, 0, 1, 1, -1);
+        Check.due("-1", x.cheated(0), OtherSide.BAD);
+        Check.due("nothing came in", x.of(0, 15), 13);
+        x.mend(0, 0, 9);
+        x.mend(2, 0, 1);
+        Check.bytes(x, 0, 1);
+        Check.due("one more than nine", x.cheated(0), 0);
+    }
+
+    private static void judgeEdges() {
+        OtherSide x = new OtherSide();
+        Check.bytes(x, 0);
+        Check.due("nothing shown", x.judge(0), OtherSide.NOT);
+        Check.bytes(x, 0, 0);
+        Check.due("an empty hat", x.judge(0), 0);
+        x.card(11);
+        x.card(220);
+        Check.bytes(x, 0, 0, 1, 0, 1, 2, 6);
+        Check.due("none of these in the hat", x.judge(0), 4);
+        x.mend(1, 0, 1);
+        Check.due("no colour", x.judge(0), 5);
+        x.put(0, 5, 2);
+        Check.due("all can be", x.judge(0), OtherSide.NOT);
+        Check.law(x, "s");
+        Check.due("a weight of 0", x.judge(0), 0);
+        x.row(1, 0, 60);
+        x.put(1, 59, -128);
+        Check.law(x, "1");
+        Check.due("the last of sixty", x.judge(1), 59);
+    }
+
+    private static void lawCountsTheOneMore() {
+        OtherSide x = new OtherSide();
+        x.card(12);
+        x.card(559);
+        Check.law(x, "m=2?s;m=3?!s;1");
+        Check.bytes(x, 0, 0);
+        Check.due("with three of it the first side is shown", x.cheated(0), 0);
+        Check.bytes(x, 0, 1);
+        Check.due("and the second no more", x.cheated(0), OtherSide.NOT);
+        Check.due("the weights are as before", x.weight(0, 1), 1);
+        due("the chances too", x.shown(1, 0), x.shown(1, 1), Ratio.of(2, 11));
+    }
+
+    private static void lawCountsTheTenth() {
+        OtherSide x = new OtherSide();
+        x.card(19);
+        x.card(228);
+        Check.law(x, "m=10?s;1");
+        Check.bytes(x, 0, 1);
+        Check.due("with ten of it the second side is shown", x.cheated(0), 0);
+        Check.bytes(x, 0, 0);
+        Check.due("and the first no more", x.cheated(0), OtherSide.NOT);
+    }
+
+    private static void randomHats() {
+        Random random = new Random(3);
+        for (int run = 0; run < 400; run++) {
+            OtherSide x = new OtherSide();
+            int cards = random.nextInt(9);
+            for (int i = 0; i < cards; i++) {
+                x.card(random.nextInt(3) * 100 + random.nextInt(3) * 10 + random.nextInt(run % 3 == 0 ? 2 : 9));
+            }
+            String law = LAWS[random.nextInt(LAWS.length)];
+            Check.law(x, law);
+            all(x, cards, random);
+        }
+    }
+
+    private static void all(OtherSide x, int cards, Random random) {
+        int[] many = new int[cards];
+        for (int i = 0; i < cards; i++) {
+            many[i] = x.of(i, 0);
+        }
+        int c = random.nextInt(4);
+        int d = random.nextInt(4);
+        int k = 1 + random.nextInt(4);
+        Ratio shown = likely(x, many, c, 1);
+        due("shown", x.shown(c, 0), x.shown(c, 1), shown);
+        due("other", x.other(10 * c + d, 0), x.other(10 * c + d, 1), both(x, many, c, d).by(shown));
+        Ratio times = likely(x, many, c, k);
+        due("again", x.again(10 * c + k, 0), x.again(10 * c + k, 1), likely(x, many, c, k + 1).by(times));
+        for (int n = 0; n < cards; n++) {
+            Ratio of = of(x, many, n, c, k).by(times);
+            due("which", x.which(n, 10 * c + k, 0), x.which(n, 10 * c + k, 1), of);
+        }
+        int[] row = new int[random.nextInt(4)];
+        int impossible = OtherSide.NOT;
+        for (int i = row.length - 1; i >= 0; i--) {
+            row[i] = random.nextInt(3);
+            impossible = x.shown(row[i], 0) == 0 ? i : impossible;
+        }
+        Check.bytes(x, 0, row);
+        Check.due("judge", x.judge(0), impossible);
+        Check.due("cheated", x.cheated(0), cheated(x, many, row));
+    }
+
+    private static Ratio side(OtherSide x, int card, int side) {
+        int both = x.weight(card, 0) + x.weight(card, 1);
+        return Ratio.of(x.weight(card, side), both);
+    }
+
+    private static Ratio of(OtherSide x, int[] many, int card, int c, int k) {
+        int all = 0;
+        for (int m : many) {
+            all += m;
+        }
+        Ratio once = Ratio.ZERO;
+        for (int side = 0; side < 2; side++) {
+            if (x.of(card, 1 + side) == c) {
+                once = once.plus(side(x, card, side));
+            }
+        }
+        Ratio r = Ratio.of(many[card], all);
+        for (int i = 0; i < k; i++) {
+            r = r.times(once);
+        }
+        return r;
+    }
+
+    private static Ratio likely(OtherSide x, int[] many, int c, int k) {
+        Ratio r = Ratio.ZERO;
+        for (int i = 0; i < many.length; i++) {
+            r = r.plus(of(x, many, i, c, k));
+        }
+        return r;
+    }
+
+    private static Ratio both(OtherSide x, int[] many, int c, int d) {
+        int all = 0;
+        for (int m : many) {
+            all += m;
+        }
+        Ratio r = Ratio.ZERO;
+        for (int i = 0; i < many.length; i++) {
+            for (int side = 0; side < 2; side++) {
+                if (x.of(i, 1 + side) == c && x.of(i, 2 - side) == d) {
+                    r = r.plus(Ratio.of(many[i], all).times(side(x, i, side)));
+                }
+            }
+        }
+        return r;
+    }
+
+    private static int cheated(OtherSide x, int[] many, int[] row) {
+        Ratio most = product(x, many, row);
+        int best = OtherSide.NOT;
+        for (int i = 0; i < many.length; i++) {
+            if (many[i] < 9) {
+                // One more in deed, so that the law sees it.
+                x.mend(i, 0, many[i] + 1);
+            }
+            many[i]++;
+            Ratio r = product(x, many, row);
+            many[i]--;
+            x.mend(i, 0, many[i]);
+            if (r.compare(most) > 0) {
+                most = r;
+                best = i;
+            }
+        }
+        return best;
+    }
+
+    private static Ratio product(OtherSide x, int[] many, int[] row) {
+        Ratio r = Ratio.ONE;
+        for (int c : row) {
+            r = r.times(likely(x, many, c, 1));
+        }
+        return r;
+    }
+
+    // What is laid aside and mended anew makes more than nine of each card.
+    private static void fullHats() {
+        OtherSide x = new OtherSide();
+        int[] cards = {0, 110, 10, 220, 120, 20, 1, 550};
+        for (int abm : cards) {
+            x.card(abm);
+        }
+        for (int i = 0; i < 8; i++) {
+            for (int times = 0; times < 3; times++) {
+                x.mend(i, 0, 9);
+                while (x.of(0, 15) > 0) {
+                    x.draw(i);
+                }
+            }
+        }
+        x.putBack();
+        int[] many = new int[8];
+        for (int i = 0; i < 8; i++) {
+            many[i] = x.of(i, 0);
+            Check.due("all of it", many[i], i == 6 ? 28 : 27);
+        }
+        Check.bytes(x, 0, 0, 1, 0);
+        Check.due("cheated of many", x.cheated(0), cheated(x, many, new int[] {0, 1, 0}));
+        due("shown of many", x.shown(0, 0), x.shown(0, 1), likely(x, many, 0, 1));
+        due("again of many", x.again(4, 0), x.again(4, 1), likely(x, many, 0, 5).by(likely(x, many, 0, 4)));
+    }
+}
