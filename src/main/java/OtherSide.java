@@ -646,19 +646,23 @@ public final class OtherSide {
 
         // Operands of one level joined by its signs: the levels bind tighter from 0 on.
         private void readJoined(int level, int open) {
-            if (level > TIGHTEST) {
-                readOperand(open);
-                return;
-            }
-            readJoined(level + 1, open);
+            readTighter(level, open);
             for (int turn = 0; turn < length && joins(level, sign()); turn++) {
                 int sign = sign();
                 place++;
-                readJoined(level + 1, open);
+                readTighter(level, open);
                 emit(-sign);
                 if (level == COMPARING) {
                     return;
                 }
+            }
+        }
+
+        private void readTighter(int level, int open) {
+            if (level < TIGHTEST) {
+                readJoined(level + 1, open);
+            } else {
+                readOperand(open);
             }
         }
 
@@ -687,14 +691,17 @@ public final class OtherSide {
                     fail();
                 }
             } else if (takes('!')) {
-                readOperand(open + 1);
-                emit(-'!');
+                readBehind('!', open);
             } else if (takes('-')) {
-                readOperand(open + 1);
-                emit(-MINUS);
+                readBehind(MINUS, open);
             } else {
                 fail();
             }
+        }
+
+        private void readBehind(int sign, int open) {
+            readOperand(open + 1);
+            emit(-sign);
         }
 
         private void readNumber() {
@@ -1226,27 +1233,35 @@ public final class OtherSide {
             if (at < 0 || depth > DEEPEST) {
                 return 0;
             }
-            int up = ABOVE[at];
-            int deeper = depth + 1;
             int body = OWN[ACTS * at + act];
             note(body);
             switch (body) {
                 case 1: return x + number;
-                case 2: return run(kind, DRAWS, x, deeper) - run(kind, LEAVES, 1, deeper);
-                case 10: return run(kind, SHOWS, x, deeper) * 2;
+                case 2: return own(DRAWS, x, depth) - own(LEAVES, 1, depth);
+                case 10: return own(SHOWS, x, depth) * 2;
                 case 11: return x ^ number;
-                case 20: return run(up, SHOWS, x, deeper) + 3;
-                case 30: return -run(up, DRAWS, x, deeper);
-                case 40: return run(up, LEAVES, x, deeper) * 3;
-                case 41: return run(up, DRAWS, x + 1, deeper);
-                case 50: return run(up, TELLS, x, deeper) ^ 5;
-                case 60: return run(up, LEAVES, x, deeper) - run(kind, SHOWS, 2, deeper);
-                case 61: return run(up, TELLS, x, deeper) + 1;
-                case 70: return run(up, SHOWS, x, deeper) * 2;
-                case 80: return run(up, DRAWS, x, deeper) + run(kind, LEAVES, 2, deeper);
-                case 81: return run(up, SHOWS, x, deeper) - 1;
+                case 20: return above(at, SHOWS, x, depth) + 3;
+                case 30: return -above(at, DRAWS, x, depth);
+                case 40: return above(at, LEAVES, x, depth) * 3;
+                case 41: return above(at, DRAWS, x + 1, depth);
+                case 50: return above(at, TELLS, x, depth) ^ 5;
+                case 60: return above(at, LEAVES, x, depth) - own(SHOWS, 2, depth);
+                case 61: return above(at, TELLS, x, depth) + 1;
+                case 70: return above(at, SHOWS, x, depth) * 2;
+                case 80: return above(at, DRAWS, x, depth) + own(LEAVES, 2, depth);
+                case 81: return above(at, SHOWS, x, depth) - 1;
                 default: return 0;
             }
+        }
+
+        // An act of the body that acts, whichever kind asks for it.
+        private int own(int act, int x, int depth) {
+            return run(kind, act, x, depth + 1);
+        }
+
+        // An act from the kind above one on.
+        private int above(int at, int act, int x, int depth) {
+            return run(ABOVE[at], act, x, depth + 1);
         }
 
         // The first kind from one on upward with a body of its own for an act.
