@@ -46,6 +46,10 @@ public final class LawTest {
         Check.due("second", x.weight(0, 1), 3);
         Check.due("a fault", Check.law(x, "s+"), -102);
         Check.due("the law stays", x.weight(0, 0), 2);
+        Check.due("a fault at the first byte", Check.law(x, ")"), -100);
+        Check.due("the law stays", x.weight(0, 0), 2);
+        Check.due("an empty tape", x.law(), -100);
+        Check.due("the law stays", x.weight(0, 1), 3);
         Check.due("the tape is empty", x.count(2), 0);
         Check.due("another law", Check.law(x, "3-s"), 1);
         Check.due("first", x.weight(0, 0), 3);
@@ -54,15 +58,17 @@ public final class LawTest {
     }
 
     private static void faults() {
-        String[] texts = {"", ";", "1;", "1;;1", "a?", "a?1?2", "1?", "?1", "12345", "1234", "0000", "00000", "aa", "a1",
-            "1a", "1 + 1", " 1", "1 ", "x", "()", "(1", "(1)", "1)", "(1;2)", "(1?2)", "1<2<3", "1<2=3", "(1<2)<3",
+        String[] texts = {"", ";", "1;", "1;;1", "a?", "a?1?2", "1?", "?1", "12345", "1234", "0000", "00000", "aa",
+            "a1", "1a", "1 + 1", " 1", "1 ", "x", "()", "(1", "(1)", "1)", "(1;2)", "(1?2)", "1<2<3", "1<2=3", "(1<2)<3",
             "1<2&3<4|5=6", "1--1", "1---1", "!!!!!!1", "!!!!!!!1", "((((((1))))))", "(((((((1)))))))", "-(-(-(1)))",
             "-(-(-(-1)))", "-(-(-(1-1)))", "!1+!1+!1+!1+!1+!1+!1+!1", "(1)+(2)+(3)+(4)+(5)+(6)+(7)", "!!!!!!(1)",
             "!!!!!(1)+!!!!!!1", "a=1?3;s", "1+", "*1", "+1", "1**2", "a|b&n<m+s*1", "a||b", "a&&b", "a==b", "\u00e9",
-            "a\u0000", "-", "!", "(", "((((((", "(((((((", "((((((a*b-1", "A", "1,2", "1.5", "a?b;c"};
+            "a\u0000", "-", "!", "(", "((((((", "(((((((", "((((((a*b-1", "A", "1,2", "1.5", "a?b;c",
+            "1?((((((1))))))", "1?(((((((1)))))))", "1;((((((1))))))", "1;!!!!!!!1", "((((((1))))))?!!!!!!1"};
         int[] due = {0, 0, 2, 2, 2, 3, 2, 0, 4, -1, -1, 4, 1, 1, 1, 1, 0, 1, 0, 1, 2, -1, 1, 2, 2, 3, 3, -1,
             -1, -1, -1, -1, 6, -1, 6, -1, 6, -1, -1, -1, 6,
-            -1, -1, 2, 0, 0, 2, -1, 2, 2, 2, 0, 1, 1, 1, 1, 6, 6, 11, 0, 1, 1, 4};
+            -1, -1, 2, 0, 0, 2, -1, 2, 2, 2, 0, 1, 1, 1, 1, 6, 6, 11, 0, 1, 1, 4,
+            -1, 8, -1, 8, -1};
         Check.due("as many faults as texts", due.length, texts.length);
         for (int i = 0; i < texts.length && i < due.length; i++) {
             OtherSide x = new OtherSide();
@@ -74,11 +80,11 @@ public final class LawTest {
     private static void meanings() {
         String[] texts = {"a", "b", "n", "m", "s+1", "3;2", "0?3;2", "1?3;2", "s?3;2", "s=0?3", "a<b", "a>b", "a=b",
             "3/0", "3%0+1", "0-7/2+6", "-7/2+6", "-7%4+5", "!5+1", "!0+1", "2&4|0", "1|0&0", "(1|0)&0+2", "1+2*3-4",
-            "9999*9999*9999", "2*-1+4", "1<2+3", "-a+3", "!a=0", "10-3-5", "16/4/2", "7%4*2-3", "0", "a&0"};
+            "9999*9999*9999", "2*-1+4", "1<2+3", "-a+3", "!a=0", "10-3-5", "16/4/2", "7%4*2-3", "0", "a&0", "n+1", "n+s+1"};
         // Of a card of sides 1 and 2, five of which are in the hat, number 1: of its first side, of its second.
         int[][] due = {{1, 2}, {2, 1}, {1, 1}, {3, 3}, {1, 2}, {3, 3}, {2, 2}, {3, 3}, {2, 3}, {3, 0}, {1, 0}, {0, 1},
             {1, 1}, {1, 1}, {1, 1}, {3, 3}, {3, 3}, {2, 2}, {1, 1}, {2, 2}, {1, 1}, {1, 1}, {1, 1}, {3, 3},
-            {0, 0}, {2, 2}, {1, 1}, {2, 1}, {1, 1}, {2, 2}, {2, 2}, {3, 3}, {1, 1}, {1, 1}};
+            {0, 0}, {2, 2}, {1, 1}, {2, 1}, {1, 1}, {2, 2}, {2, 2}, {3, 3}, {1, 1}, {1, 1}, {2, 2}, {2, 3}};
         due[24] = 9999 * 9999 * 9999 > 0 ? new int[] {3, 3} : new int[] {1, 1};
         Check.due("as many as texts", due.length, texts.length);
         for (int i = 0; i < texts.length && i < due.length; i++) {
@@ -223,7 +229,7 @@ public final class LawTest {
         int open;
     }
 
-    private static final int[] NAMED = {4, 2, 0, 7, 0};
+    private static final int[] NAMED = {4, 2, 3, 7, 0};
 
     private static Tree tree(Random random, int depth) {
         int kind = depth <= 0 ? random.nextInt(2) : random.nextInt(14);
@@ -293,9 +299,12 @@ public final class LawTest {
             int rest = t.value % 9973;
             String text = "s?1;((" + t.text + ")%9973=" + rest + ")*2+1";
             OtherSide x = new OtherSide();
+            x.card(1);
+            x.card(2);
+            x.card(3);
             x.card(427);
             Check.due("law " + text, Check.law(x, text), 1);
-            Check.due(t.text + " is " + t.value, x.weight(0, 0), 3);
+            Check.due(t.text + " is " + t.value, x.weight(3, 0), 3);
         }
     }
 

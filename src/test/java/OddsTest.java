@@ -113,6 +113,11 @@ public final class OddsTest {
         x.mend(1, 11, 12);
         Check.due("too high", x.sure(-1), 40);
         Check.due("stake", x.sure(2), -5);
+        x.mend(1, 11, 4);
+        for (int k = 0; k < 3; k++) {
+            Check.due("no stake any more", x.sure(k), 0);
+        }
+        Check.due("fair again", x.sure(-1), OtherSide.NOT);
     }
 
     private static OtherSide mended(Random random, int how) {

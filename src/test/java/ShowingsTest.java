@@ -3,8 +3,8 @@ import java.util.Random;
 /** Promises 9 to 14: shown, other, which, again, cheated, judge. */
 public final class ShowingsTest {
     private static final long NONE = Long.MIN_VALUE;
-    private static final String[] LAWS = {"", "s+1", "3*s", "a", "a<b", "m", "3-m", "n", "m%3;", "a=1?3;s", "a+b-n", "m>2?s;1",
-        "!s", "m=10?0-s+1;2"};
+    private static final String[] LAWS = {"", "s+1", "3*s", "a", "a<b", "m", "3-m", "n", "m%3;", "a=1?3;s",
+        "a+b-n", "m>2?s;1", "!s", "m=10?0-s+1;2"};
 
     public static void main(String[] args) {
         threeCards();
@@ -14,6 +14,7 @@ public final class ShowingsTest {
         judgeEdges();
         lawCountsTheOneMore();
         lawCountsTheTenth();
+        eachByTheLatestLaw();
         randomHats();
         fullHats();
         Check.end("ShowingsTest");
@@ -120,6 +121,8 @@ public final class ShowingsTest {
         Check.due("6", x.cheated(0), OtherSide.BAD);
         Check.bytes(x, 0, 1, 1, -1);
         Check.due("-1", x.cheated(0), OtherSide.BAD);
+        Check.bytes(x, 0, 6);
+        Check.due("only 6", x.cheated(0), OtherSide.BAD);
         Check.due("nothing came in", x.of(0, 15), 13);
         x.mend(0, 0, 9);
         x.mend(2, 0, 1);
@@ -171,6 +174,49 @@ public final class ShowingsTest {
         Check.due("with ten of it the second side is shown", x.cheated(0), 0);
         Check.bytes(x, 0, 0);
         Check.due("and the first no more", x.cheated(0), OtherSide.NOT);
+    }
+
+    // Each is asked first behind a law, so that none goes by weights of before.
+    private static void eachByTheLatestLaw() {
+        OtherSide x = new OtherSide();
+        x.card(12);
+        x.card(111);
+        Check.bytes(x, 0, 0);
+        for (int turn = 0; turn < 2; turn++) {
+            Check.law(x, "s=0");
+            due("other", x.other(1, 0), x.other(1, 1), Ratio.ONE);
+            Check.law(x, "s");
+            due("no other", x.other(1, 0), x.other(1, 1), Ratio.ZERO);
+            Check.law(x, "s=0");
+            due("which", x.which(0, 1, 0), x.which(0, 1, 1), Ratio.ONE);
+            Check.law(x, "s");
+            due("not which", x.which(0, 1, 0), x.which(0, 1, 1), Ratio.ZERO);
+            Check.law(x, "s=0");
+            due("again", x.again(1, 0), x.again(1, 1), Ratio.ONE);
+            Check.law(x, "s");
+            due("not again", x.again(1, 0), x.again(1, 1), Ratio.ZERO);
+            Check.law(x, "s=0");
+            Check.due("cheated", x.cheated(0), 0);
+            Check.law(x, "s");
+            Check.due("not cheated", x.cheated(0), OtherSide.NOT);
+            Check.law(x, "s=0");
+            Check.due("judge", x.judge(0), OtherSide.NOT);
+            Check.law(x, "s");
+            Check.due("judge cannot be", x.judge(0), 0);
+            Check.law(x, "s=0");
+            due("shown", x.shown(0, 0), x.shown(0, 1), Ratio.of(2, 3));
+            Check.due("drawn", x.drawn(1, 60, 0) + x.drawn(1, 60, 100), 60);
+            Check.law(x, "s");
+            Check.due("drawn", x.drawn(1, 60, 0), 0);
+            x.mend(1, 0, 0);
+            Check.law(x, "s=0");
+            Check.due("as likely as can be", x.cheated(0), OtherSide.NOT);
+            Check.due("draw", x.draw(1), 1);
+            Check.law(x, "s");
+            Check.due("draw", x.draw(1), 10);
+            x.putBack();
+            x.undo();
+        }
     }
 
     private static void randomHats() {

@@ -3,8 +3,8 @@ import java.util.Random;
 /** Long runs of any calls: none throws, the same calls answer the same, what is refused changes nothing. */
 public final class WildTest {
     private static final int CALLS = 37;
-    private static final int[] EDGES = {-1, 0, 1, 2, 3, 4, 5, 6, 7, 8, 9, 10, 11, 12, 13, 16, 17, 24, 49, 50, 51, 55, 59, 60, 61,
-        63, 64, 99, 100, 111, 119, 120, 121, 255, 256, 559, 999, 4095, 4096, 9999, 10000, -2, -11, -14, 1 << 30,
+    private static final int[] EDGES = {-1, 0, 1, 2, 3, 4, 5, 6, 7, 8, 9, 10, 11, 12, 13, 16, 17, 24, 49, 50, 51, 55, 59, 60,
+        61, 63, 64, 99, 100, 111, 119, 120, 121, 255, 256, 559, 999, 4095, 4096, 9999, 10000, -2, -11, -14, 1 << 30,
         Integer.MAX_VALUE, Integer.MAX_VALUE - 1, Integer.MIN_VALUE, Integer.MIN_VALUE + 1};
 
     public static void main(String[] args) {
