@@ -395,9 +395,9 @@ public final class OtherSide {
     }
 
     public long element(int shelf, int i) {
-        int refusal = refusedElement(shelf, i);
-        if (refusal < 0) {
-            return refusal == BAD ? NONE : refusal;
+        // -11 to -13 may stand in a row themselves, so every refusal answers the same.
+        if (refusedElement(shelf, i) < 0) {
+            return NONE;
         }
         return shelves[shelf].elements[i];
     }
@@ -546,7 +546,17 @@ public final class OtherSide {
             return all;
         }
 
+        // What the value was; one that stays as it is has not changed, and those undone stay to be done again.
         int change(int number, int what, int v) {
+            int former = values[what][number];
+            if (v != former) {
+                keepChange(number, what, former, v);
+                values[what][number] = v;
+            }
+            return former;
+        }
+
+        private void keepChange(int number, int what, int former, int v) {
             if (done == KEPT) {
                 oldest = (oldest + 1) % KEPT;
                 done--;
@@ -554,12 +564,10 @@ public final class OtherSide {
             int at = (oldest + done) % KEPT;
             this.number[at] = number;
             this.what[at] = what;
-            was[at] = values[what][number];
+            was[at] = former;
             became[at] = v;
             done++;
             undone = 0;
-            values[what][number] = v;
-            return was[at];
         }
 
         boolean takeChangeBack() {

@@ -1,3 +1,4 @@
+import java.util.ArrayList;
 import java.util.Random;
 
 /** Promises 22 to 28: drawn, draw, putBack, image, back, undo, redo. */
@@ -15,6 +16,10 @@ public final class DrawingsTest {
         fortyAtMost();
         undoneEachKind();
         noChanges();
+        mendToTheSame();
+        sameKeepsThoseUndone();
+        sameAtForty();
+        randomChanges();
         undoneBehindDeeds();
         Check.end("DrawingsTest");
     }
@@ -227,7 +232,7 @@ public final class DrawingsTest {
         Check.due("none again", x.redo(), OtherSide.STATE);
         x.mend(0, 3, 2);
         x.mend(0, 3, 5);
-        x.mend(0, 3, 5);
+        x.mend(0, 3, 7);
         Check.due("three", x.count(3), 3);
         Check.due("two left", x.undo(), 2);
         Check.due("one left", x.undo(), 1);
@@ -310,6 +315,111 @@ public final class DrawingsTest {
         x.act(0, 0, 0);
         Check.due("none of these is a change", x.count(3), 0);
         Check.due("STATE", x.undo(), OtherSide.STATE);
+    }
+
+    private static void mendToTheSame() {
+        int[] numbers = {2, 2, 2, 4, 4, 4, 4, 4, 6, 1, 1, 3};
+        for (int what = 0; what < 12; what++) {
+            for (int number = 0; number < numbers[what]; number++) {
+                OtherSide x = new OtherSide();
+                x.card(123);
+                x.card(453);
+                int was = x.of(number, what);
+                Check.due("what it was", x.mend(number, what, was), was);
+                Check.due("is still that", x.of(number, what), was);
+                Check.due("no change of " + what, x.count(3), 0);
+                Check.due("none to undo", x.undo(), OtherSide.STATE);
+                x.mend(number, what, was - 1);
+                x.undo();
+                Check.due("the same again", x.mend(number, what, was), was);
+                Check.due("still done again " + what + " of " + number, x.redo(), 0);
+                Check.due("became", x.of(number, what), was - 1);
+            }
+        }
+    }
+
+    private static void sameKeepsThoseUndone() {
+        OtherSide x = new OtherSide();
+        x.card(0);
+        x.mend(0, 1, 1);
+        x.undo();
+        Check.due("one at first", x.mend(0, 3, 1), 1);
+        Check.due("done again", x.redo(), 0);
+        Check.due("the side is 1 again", x.mend(0, 1, 0), 1);
+        x.card(113);
+        x.mend(1, 0, 5);
+        x.undo();
+        x.draw(1 << 20);
+        int many = x.of(1, 0);
+        Check.due("the same behind a deed", x.mend(1, 0, many), many);
+        Check.due("done again behind a deed", x.redo(), 0);
+        Check.due("MANY", x.of(1, 0), 5);
+    }
+
+    private static void sameAtForty() {
+        OtherSide x = new OtherSide();
+        for (int i = 0; i < 45; i++) {
+            x.mend(0, 7, 11 + i);
+        }
+        for (int i = 0; i < 50; i++) {
+            Check.due("the same", x.mend(0, 7, 55), 55);
+        }
+        Check.due("still forty", x.count(3), 40);
+        for (int i = 39; i >= 0; i--) {
+            Check.due("undo", x.undo(), i);
+        }
+        Check.due("the price ahead of the forty", x.of(0, 7), 15);
+    }
+
+    /** Each change as number, what, former, new: a list of those done and one of those undone. */
+    private static void randomChanges() {
+        Random random = new Random(15);
+        for (int run = 0; run < 300; run++) {
+            OtherSide x = new OtherSide();
+            x.card(14);
+            x.card(233);
+            ArrayList<int[]> done = new ArrayList<>();
+            ArrayList<int[]> undone = new ArrayList<>();
+            int undoing = 2 + random.nextInt(5);
+            for (int i = 0; i < 150; i++) {
+                int how = random.nextInt(10);
+                if (how == 9) {
+                    x.draw(random.nextInt());
+                } else if (how < undoing) {
+                    undoOrRedo(x, random.nextBoolean(), done, undone);
+                } else {
+                    oneMend(x, random, done, undone);
+                }
+                Check.due("may be undone", x.count(3), done.size());
+            }
+        }
+    }
+
+    private static void undoOrRedo(OtherSide x, boolean undo, ArrayList<int[]> done, ArrayList<int[]> undone) {
+        ArrayList<int[]> from = undo ? done : undone;
+        int left = from.size() - 1;
+        Check.due(undo ? "undo" : "redo", undo ? x.undo() : x.redo(), left < 0 ? OtherSide.STATE : left);
+        if (left >= 0) {
+            int[] change = from.remove(left);
+            (undo ? undone : done).add(change);
+            Check.due("then", x.of(change[0], change[1]), change[undo ? 2 : 3]);
+        }
+    }
+
+    private static void oneMend(OtherSide x, Random random, ArrayList<int[]> done, ArrayList<int[]> undone) {
+        int number = random.nextInt(2);
+        int what = random.nextInt(9);
+        int v = random.nextInt(3);
+        int was = x.of(number, what);
+        Check.due("mend", x.mend(number, what, v), was);
+        Check.due("mended", x.of(number, what), v);
+        if (was != v) {
+            done.add(new int[] {number, what, was, v});
+            undone.clear();
+            if (done.size() > 40) {
+                done.remove(0);
+            }
+        }
     }
 
     private static void undoneBehindDeeds() {

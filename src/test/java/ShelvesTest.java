@@ -35,7 +35,7 @@ public final class ShelvesTest {
         Check.due("nothing is there", x.taken(5, 3), -11);
         x.row(5, 0, 1);
         Check.due("nothing behind a row", x.keep(5, -1), 1);
-        Check.due("the row is gone", x.element(5, 0), -11);
+        Check.due("the row is gone", x.element(5, 0), NONE);
     }
 
     private static void row() {
@@ -47,9 +47,9 @@ public final class ShelvesTest {
         }
         Check.due("below 0", x.row(0, 0, -1), -14);
         Check.due("far below 0", x.row(0, 4, Integer.MIN_VALUE), -14);
-        Check.due("nothing came", x.element(0, 0), -11);
+        Check.due("nothing came", x.element(0, 0), NONE);
         Check.due("of none", x.row(0, 0, 0), 1);
-        Check.due("no place", x.element(0, 0), -13);
+        Check.due("no place", x.element(0, 0), NONE);
         for (int sort = 0; sort < 5; sort++) {
             Check.due("of sixty", x.row(sort, sort, 60), 1);
             for (int i = 0; i < 60; i++) {
@@ -58,7 +58,7 @@ public final class ShelvesTest {
             }
             Check.due("anew", x.row(sort, sort, 2), 1);
             Check.due("0 again", x.element(sort, 1), 0);
-            Check.due("shorter", x.element(sort, 2), -13);
+            Check.due("shorter", x.element(sort, 2), NONE);
         }
         x.body(0);
         x.keep(1, 0);
@@ -108,16 +108,20 @@ public final class ShelvesTest {
         OtherSide x = new OtherSide();
         Check.due("shelf -1", x.element(-1, 0), NONE);
         Check.due("shelf 6", x.element(6, 0), NONE);
-        Check.due("nothing", x.element(0, 0), -11);
+        Check.due("nothing", x.element(0, 0), NONE);
         x.body(0);
         x.keep(0, 0);
-        Check.due("a body", x.element(0, 0), -12);
+        Check.due("a body", x.element(0, 0), NONE);
         x.row(0, 3, 60);
         int[] places = {-1, 60, Integer.MIN_VALUE, Integer.MAX_VALUE};
         for (int i : places) {
-            Check.due("place " + i, x.element(0, i), -13);
+            Check.due("place " + i, x.element(0, i), NONE);
         }
         Check.due("the last", x.element(0, 59), 0);
+        for (int refusal = -1; refusal >= -14; refusal--) {
+            x.put(0, 7, refusal);
+            Check.due("an element like a refusal", x.element(0, 7), refusal);
+        }
     }
 
     private static void shift() {
