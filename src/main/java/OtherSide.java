@@ -546,6 +546,11 @@ public final class OtherSide {
             return all;
         }
 
+        // A card mended while some of it were laid aside may have no place for them all.
+        void putInHat(int card, int more) {
+            values[MANY][card] = Math.min(MOST[MANY], values[MANY][card] + more);
+        }
+
         // What the value was; one that stays as it is has not changed, and those undone stay to be done again.
         int change(int number, int what, int v) {
             int former = values[what][number];
@@ -1145,7 +1150,7 @@ public final class OtherSide {
         int layAllBack(Things things) {
             int all = allAside();
             for (int i = 0; i < CARDS; i++) {
-                things.values[MANY][i] += aside[i];
+                things.putInHat(i, aside[i]);
                 aside[i] = 0;
             }
             return all;

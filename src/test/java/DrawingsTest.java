@@ -10,6 +10,9 @@ public final class DrawingsTest {
         weightsAheadOfDrawing();
         putBack();
         putBackOverMended();
+        putBackOverDoneAgain();
+        putBackAtNine();
+        randomPutBack();
         images();
         cardsSinceTheImage();
         undone();
@@ -160,11 +163,92 @@ public final class DrawingsTest {
         x.draw(1);
         Check.due("mend", x.mend(0, 0, 9), 7);
         Check.due("all are put back", x.putBack(), 2);
-        Check.due("all of it", x.of(0, 0), 11);
-        Check.due("all in the hat", x.of(0, 15), 11);
-        Check.due("what it was", x.mend(0, 0, 3), 11);
+        Check.due("nine at most", x.of(0, 0), 9);
+        Check.due("all in the hat", x.of(0, 15), 9);
+        Check.due("none aside", x.of(0, 12) + x.count(1), 0);
+        Check.due("none any more", x.putBack(), 0);
+        Check.due("what it was", x.mend(0, 0, 3), 9);
         Check.due("undone", x.undo(), 1);
-        Check.due("as it was", x.of(0, 0), 11);
+        Check.due("as it was", x.of(0, 0), 9);
+    }
+
+    private static void putBackOverDoneAgain() {
+        OtherSide x = new OtherSide();
+        x.card(1);
+        x.mend(0, 0, 9);
+        x.undo();
+        x.draw(0);
+        Check.due("done again", x.redo(), 0);
+        Check.due("put back", x.putBack(), 1);
+        Check.due("an image of nine", x.image(), 9);
+        x.mend(0, 0, 4);
+        Check.due("laid back", x.back(), 9);
+    }
+
+    /** Each MANY and how many are aside at all edges: what is put back of a card stops at nine. */
+    private static void putBackAtNine() {
+        for (int aside = 0; aside <= 9; aside++) {
+            for (int many = 0; many <= 9; many++) {
+                OtherSide x = new OtherSide();
+                x.card(119);
+                for (int i = 0; i < aside; i++) {
+                    x.draw(i);
+                }
+                x.mend(0, 0, many);
+                x.card(222);
+                Check.due("how many were aside", x.putBack(), aside);
+                Check.due("MANY " + many + " and " + aside, x.of(0, 0), Math.min(9, many + aside));
+                Check.due("of another card", x.of(1, 0), 2);
+                Check.due("all in the hat", x.of(0, 15), 2 + Math.min(9, many + aside));
+                Check.due("none aside", x.count(1), 0);
+            }
+        }
+    }
+
+    /** MANY and those aside of two cards by an account of their own, with images, through any calls. */
+    private static void randomPutBack() {
+        Random random = new Random(16);
+        for (int run = 0; run < 200; run++) {
+            OtherSide x = new OtherSide();
+            x.card(9);
+            x.card(118);
+            int[] many = {9, 8};
+            int[] aside = {0, 0};
+            int[] image = null;
+            for (int i = 0; i < 200; i++) {
+                int how = random.nextInt(12);
+                if (how < 6) {
+                    int got = x.draw(random.nextInt());
+                    Check.due("empty", got == OtherSide.STATE ? 1 : 0, many[0] + many[1] == 0 ? 1 : 0);
+                    if (got >= 0) {
+                        many[got / 11]--;
+                        aside[got / 11]++;
+                    }
+                } else if (how < 9) {
+                    int card = random.nextInt(2);
+                    int v = random.nextInt(10);
+                    Check.due("mend", x.mend(card, 0, v), many[card]);
+                    many[card] = v;
+                } else if (how == 9) {
+                    Check.due("put back", x.putBack(), aside[0] + aside[1]);
+                    for (int card = 0; card < 2; card++) {
+                        many[card] = Math.min(9, many[card] + aside[card]);
+                        aside[card] = 0;
+                    }
+                } else if (how == 10) {
+                    Check.due("image", x.image(), many[0] + many[1]);
+                    image = new int[] {many[0], many[1], aside[0], aside[1]};
+                } else if (image != null) {
+                    many = new int[] {image[0], image[1]};
+                    aside = new int[] {image[2], image[3]};
+                    Check.due("laid back", x.back(), many[0] + many[1]);
+                }
+                for (int card = 0; card < 2; card++) {
+                    Check.due("MANY", x.of(card, 0), many[card]);
+                    Check.due("aside", x.of(card, 12), aside[card]);
+                }
+            }
+        }
     }
 
     private static void images() {

@@ -336,30 +336,35 @@ public final class ShowingsTest {
         return r;
     }
 
-    // What is laid aside and mended anew makes more than nine of each card.
+    // Nine of each card, the most there can be: all drawn, mended and put back, they are no more.
     private static void fullHats() {
-        OtherSide x = new OtherSide();
-        int[] cards = {0, 110, 10, 220, 120, 20, 1, 550};
-        for (int abm : cards) {
-            x.card(abm);
-        }
-        for (int i = 0; i < 8; i++) {
-            for (int times = 0; times < 3; times++) {
-                x.mend(i, 0, 9);
-                while (x.of(0, 15) > 0) {
-                    x.draw(i);
-                }
+        Random random = new Random(17);
+        for (int run = 0; run < 60; run++) {
+            OtherSide x = new OtherSide();
+            for (int i = 0; i < 8; i++) {
+                x.card(random.nextInt(3) * 100 + random.nextInt(3) * 10 + 9);
             }
+            if (run % 2 == 0) {
+                while (x.of(0, 15) > 0) {
+                    x.draw(run);
+                }
+                for (int i = 0; i < 8; i++) {
+                    x.mend(i, 0, random.nextInt(10));
+                }
+                Check.due("all put back", x.putBack(), 72);
+            }
+            Check.law(x, run % 3 == 0 ? "" : "a+1;s");
+            int[] many = new int[8];
+            for (int i = 0; i < 8; i++) {
+                many[i] = x.of(i, 0);
+                Check.due("nine of it", many[i], 9);
+            }
+            Check.due("all in the hat", x.of(0, 15), 72);
+            int[] row = {random.nextInt(3), random.nextInt(3), random.nextInt(3)};
+            Check.bytes(x, 0, row);
+            Check.due("cheated of many", x.cheated(0), cheated(x, many, row));
+            due("shown of many", x.shown(0, 0), x.shown(0, 1), likely(x, many, 0, 1));
+            due("again of many", x.again(4, 0), x.again(4, 1), likely(x, many, 0, 5).by(likely(x, many, 0, 4)));
         }
-        x.putBack();
-        int[] many = new int[8];
-        for (int i = 0; i < 8; i++) {
-            many[i] = x.of(i, 0);
-            Check.due("all of it", many[i], i == 6 ? 28 : 27);
-        }
-        Check.bytes(x, 0, 0, 1, 0);
-        Check.due("cheated of many", x.cheated(0), cheated(x, many, new int[] {0, 1, 0}));
-        due("shown of many", x.shown(0, 0), x.shown(0, 1), likely(x, many, 0, 1));
-        due("again of many", x.again(4, 0), x.again(4, 1), likely(x, many, 0, 5).by(likely(x, many, 0, 4)));
     }
 }

@@ -30,7 +30,19 @@ public final class WildTest {
             if (!refused(call, got)) {
                 Check.due("without refused calls " + call, answer(plain, call, a), got);
             }
+            manyAsTheyMayBe(x, call);
         }
+    }
+
+    private static void manyAsTheyMayBe(OtherSide x, int call) {
+        int cards = x.count(0);
+        int all = 0;
+        for (int card = 0; card < cards; card++) {
+            int many = x.of(card, 0);
+            all += many;
+            Check.due("MANY is 0 to 9 behind call " + call, many >= 0 && many <= 9 ? 1 : 0, 1);
+        }
+        Check.due("all in the hat behind call " + call, x.of(0, 15), all);
     }
 
     private static int any(Random random, int how) {
