@@ -204,17 +204,24 @@ public final class ActsTest {
         }
     }
 
+    private static OtherSide bodiesOf(int[] kinds) {
+        OtherSide x = new OtherSide();
+        for (int kind : kinds) {
+            x.body(kind);
+        }
+        return x;
+    }
+
     private static void all() {
         Random random = new Random(7);
         int[] edges = {0, 1, -1, 5, Integer.MAX_VALUE, Integer.MIN_VALUE, 1 << 30};
-        OtherSide x = new OtherSide();
         int[] kinds = new int[50];
         for (int i = 0; i < 50; i++) {
             kinds[i] = i < 8 ? i : random.nextInt(8);
-            x.body(kinds[i]);
         }
         for (int body = 0; body < 50; body++) {
             for (int act = 0; act < 4; act++) {
+                OtherSide x = bodiesOf(kinds);
                 for (int i = 0; i < edges.length + 3; i++) {
                     int with = i < edges.length ? edges[i] : random.nextInt();
                     RAN.clear();

@@ -2,8 +2,14 @@
 final class Check {
     private static int right;
     private static int wrong;
+    private static String told = "";
 
     private Check() {
+    }
+
+    /** The sentence that the next answers are held against: of a promise, or (0) of the document's other parts. */
+    static void says(int promise, String sentence) {
+        told = (promise == 0 ? "the terms" : "promise " + promise) + " [" + sentence + "] ";
     }
 
     static void due(String call, long got, long want) {
@@ -12,13 +18,19 @@ final class Check {
         } else {
             wrong++;
             if (wrong <= 50) {
-                System.out.println(call + " answered " + got + ", due is " + want);
+                System.out.println(told + call + " answered " + got + ", due is " + want);
             }
         }
     }
 
     static void so(String what, boolean so) {
         due(what, so ? 1 : 0, 1);
+    }
+
+    /** A chance by what is asked above the line and below it. */
+    static void chance(String call, long above, long below, long wantAbove, long wantBelow) {
+        due(call + " above", above, wantAbove);
+        due(call + " below", below, wantBelow);
     }
 
     /** Feeds a text to the tape, which has room for it. */

@@ -51,35 +51,49 @@ public final class DrawingsTest {
         Check.due("no latest", x.of(0, 14), OtherSide.NOT);
     }
 
-    private static OtherSide hat(Random random) {
+    private static OtherSide hat(Random random, int mostOfEach) {
         String[] laws = {"", "s+1", "3*s", "a", "m", "n%2+s", "a=1?3;s", "m>2?s;1"};
         OtherSide x = new OtherSide();
         int cards = 1 + random.nextInt(8);
         for (int i = 0; i < cards; i++) {
-            x.card(random.nextInt(6) * 100 + random.nextInt(6) * 10 + random.nextInt(10));
+            x.card(random.nextInt(6) * 100 + random.nextInt(6) * 10 + random.nextInt(mostOfEach + 1));
         }
         Check.law(x, laws[random.nextInt(laws.length)]);
         return x;
     }
 
+    /** Of each card its MANY, its sides, their weights: asked once, for an object has but 512 calls. */
+    private static int[][] cards(OtherSide x) {
+        int[][] cards = new int[x.count(0)][];
+        for (int i = 0; i < cards.length; i++) {
+            cards[i] = new int[] {x.of(i, 0), x.of(i, 1), x.of(i, 2), x.weight(i, 0), x.weight(i, 1)};
+        }
+        return cards;
+    }
+
     /** The next of a seed: the seed first, then the card by it; then the side. */
-    private static int[] oneDrawn(OtherSide x, int seed) {
+    private static int[] oneDrawn(int[][] cards, int seed) {
+        int all = 0;
+        for (int[] card : cards) {
+            all += card[0];
+        }
         int z = seed * 1103515245 + 12345;
-        int place = (z >>> 8) % x.of(0, 15);
+        int place = (z >>> 8) % all;
         int card = 0;
-        while (place >= x.of(card, 0)) {
-            place -= x.of(card, 0);
+        while (place >= cards[card][0]) {
+            place -= cards[card][0];
             card++;
         }
         z = z * 1103515245 + 12345;
-        int side = (z >>> 8) % (x.weight(card, 0) + x.weight(card, 1)) < x.weight(card, 0) ? 0 : 1;
+        int side = (z >>> 8) % (cards[card][3] + cards[card][4]) < cards[card][3] ? 0 : 1;
         return new int[] {z, card, side};
     }
 
     private static void randomDrawn() {
         Random random = new Random(5);
         for (int run = 0; run < 300; run++) {
-            OtherSide x = hat(random);
+            OtherSide x = hat(random, 9);
+            int[][] cards = cards(x);
             int seed = run == 0 ? 0 : random.nextInt();
             int n = 1 + random.nextInt(60);
             int c = random.nextInt(6);
@@ -92,11 +106,11 @@ public final class DrawingsTest {
             int both = 0;
             int z = seed;
             for (int i = 0; i < n; i++) {
-                int[] one = oneDrawn(x, z);
+                int[] one = oneDrawn(cards, z);
                 z = one[0];
-                if (x.of(one[1], 1 + one[2]) == c) {
+                if (cards[one[1]][1 + one[2]] == c) {
                     shown++;
-                    both += x.of(one[1], 2 - one[2]) == d ? 1 : 0;
+                    both += cards[one[1]][2 - one[2]] == d ? 1 : 0;
                 }
             }
             Check.due("drawn", x.drawn(seed, n, 100 * c + 10 * d), shown);
@@ -107,30 +121,36 @@ public final class DrawingsTest {
 
     private static void randomDraw() {
         Random random = new Random(6);
-        for (int run = 0; run < 100; run++) {
-            OtherSide x = hat(random);
+        for (int run = 0; run < 400; run++) {
+            OtherSide x = hat(random, 1 + run % 9);
             int[] led = new int[6];
+            int[] asideOf = new int[8];
             int aside = 0;
-            while (x.of(0, 15) > 0) {
+            // An object has but 512 calls: eight of the hat's cards at most.
+            while (aside < 8 && x.of(0, 15) > 0) {
                 int seed = random.nextInt();
-                int[] one = oneDrawn(x, seed);
-                int many = x.of(one[1], 0);
-                int was = x.of(one[1], 12);
-                int colour = x.of(one[1], 1 + one[2]);
-                Check.due("draw", x.draw(seed), 10 * colour + x.of(one[1], 2 - one[2]));
+                int[][] cards = cards(x);
+                int[] one = oneDrawn(cards, seed);
+                int[] card = cards[one[1]];
+                int colour = card[1 + one[2]];
+                Check.due("draw", x.draw(seed), 10 * colour + card[2 - one[2]]);
                 aside++;
+                asideOf[one[1]]++;
                 led[colour]++;
-                Check.due("MANY", x.of(one[1], 0), many - 1);
-                Check.due("aside", x.of(one[1], 12), was + 1);
+                Check.due("MANY", x.of(one[1], 0), card[0] - 1);
+                Check.due("aside", x.of(one[1], 12), asideOf[one[1]]);
                 Check.due("all aside", x.count(1), aside);
                 Check.due("latest", x.of(0, 14), one[1]);
                 for (int c = 0; c < 6; c++) {
                     Check.due("led", x.of(c, 13), led[c]);
                 }
             }
-            Check.due("empty", x.draw(0), OtherSide.STATE);
+            int left = x.of(0, 15);
+            if (left == 0) {
+                Check.due("empty", x.draw(0), OtherSide.STATE);
+            }
             Check.due("all are put back", x.putBack(), aside);
-            Check.due("all in the hat", x.of(0, 15), aside);
+            Check.due("all in the hat", x.of(0, 15), left + aside);
         }
     }
 
@@ -208,14 +228,14 @@ public final class DrawingsTest {
     /** MANY and those aside of two cards by an account of their own, with images, through any calls. */
     private static void randomPutBack() {
         Random random = new Random(16);
-        for (int run = 0; run < 200; run++) {
+        for (int run = 0; run < 400; run++) {
             OtherSide x = new OtherSide();
             x.card(9);
             x.card(118);
             int[] many = {9, 8};
             int[] aside = {0, 0};
             int[] image = null;
-            for (int i = 0; i < 200; i++) {
+            for (int i = 0; i < 100; i++) {
                 int how = random.nextInt(12);
                 if (how < 6) {
                     int got = x.draw(random.nextInt());
@@ -465,7 +485,7 @@ public final class DrawingsTest {
             ArrayList<int[]> done = new ArrayList<>();
             ArrayList<int[]> undone = new ArrayList<>();
             int undoing = 2 + random.nextInt(5);
-            for (int i = 0; i < 150; i++) {
+            for (int i = 0; i < 120; i++) {
                 int how = random.nextInt(10);
                 if (how == 9) {
                     x.draw(random.nextInt());

@@ -13,11 +13,12 @@ public final class OddsTest {
         Random random = new Random(4);
         for (int run = 0; run < 300; run++) {
             OtherSide x = mended(random, run % 3);
-            handed(x);
-            ill(x, random);
-            order(x);
-            witnesses(x, random);
-            sure(x);
+            int[][] is = values(x);
+            handed(x, is);
+            ill(x, is, random);
+            order(x, is);
+            witnesses(x, is, random);
+            sure(x, is);
         }
         next();
         Check.end("OddsTest");
@@ -61,14 +62,13 @@ public final class OddsTest {
     }
 
     private static void told() {
-        OtherSide x = new OtherSide();
         for (int t = -3; t < 300; t++) {
             boolean good = t >= 0 && t < 256 && (t / 16 & ~(t % 16)) == 0;
-            Check.so("ill told " + t, good == (x.ill(t, 0) != NONE));
+            Check.so("ill told " + t, good == (new OtherSide().ill(t, 0) != NONE));
         }
         for (int t = -3; t < 4200; t++) {
             boolean good = t >= 0 && t < 4096 && (t / 64 & ~(t % 64)) == 0;
-            Check.so("isSo told " + t, good == (x.isSo(t, 0) != NONE));
+            Check.so("isSo told " + t, good == (new OtherSide().isSo(t, 0) != NONE));
         }
     }
 
@@ -138,10 +138,23 @@ public final class OddsTest {
         return x;
     }
 
+    /** What each of mend() is, by what and number: asked once, for an object has but 512 calls. */
+    private static int[][] values(OtherSide x) {
+        int[] numbers = {0, 0, 0, 4, 4, 4, 4, 4, 6, 1, 1, 3};
+        int[][] is = new int[12][];
+        for (int what = 0; what < 12; what++) {
+            is[what] = new int[numbers[what]];
+            for (int number = 0; number < numbers[what]; number++) {
+                is[what][number] = x.of(number, what);
+            }
+        }
+        return is;
+    }
+
     // All ways of balls, each ball by itself.
-    private static Ratio handedOn(OtherSide x, int at, int u, boolean cameRed, boolean first, boolean onlyFirstRed) {
-        int red = x.of(at, 3) + (at > 0 && cameRed ? 1 : 0);
-        int white = x.of(at, 4) + (at > 0 && !cameRed ? 1 : 0);
+    private static Ratio handedOn(int[][] is, int at, int u, boolean cameRed, boolean first, boolean onlyFirstRed) {
+        int red = is[3][at] + (at > 0 && cameRed ? 1 : 0);
+        int white = is[4][at] + (at > 0 && !cameRed ? 1 : 0);
         if (red + white == 0) {
             return Ratio.ZERO;
         }
@@ -153,44 +166,44 @@ public final class OddsTest {
             if (at == u) {
                 rest = isRed && (firstRed || !onlyFirstRed) ? Ratio.ONE : Ratio.ZERO;
             } else {
-                rest = handedOn(x, at + 1, u, isRed, firstRed, onlyFirstRed);
+                rest = handedOn(is, at + 1, u, isRed, firstRed, onlyFirstRed);
             }
             sum = sum.plus(rest.times(Ratio.of(1, red + white)));
         }
         return sum;
     }
 
-    private static void handed(OtherSide x) {
+    private static void handed(OtherSide x, int[][] is) {
         for (int u = 1; u <= 2; u++) {
-            Ratio last = handedOn(x, 0, u, false, false, false);
+            Ratio last = handedOn(is, 0, u, false, false, false);
             due("handed", x.handed(u, 0, 0), x.handed(u, 0, 1), last);
-            Ratio both = handedOn(x, 0, u, false, false, true);
+            Ratio both = handedOn(is, 0, u, false, false, true);
             due("handed, the first", x.handed(u, 1, 0), x.handed(u, 1, 1), both.by(last));
         }
-        if (x.of(0, 3) + x.of(1, 3) + x.of(2, 3) < 6) {
-            Ratio last = handedOn(x, 0, 3, false, false, false);
+        if (is[3][0] + is[3][1] + is[3][2] < 6) {
+            Ratio last = handedOn(is, 0, 3, false, false, false);
             due("handed to 3", x.handed(3, 0, 0), x.handed(3, 0, 1), last);
-            Ratio both = handedOn(x, 0, 3, false, false, true);
+            Ratio both = handedOn(is, 0, 3, false, false, true);
             due("handed to 3, the first", x.handed(3, 1, 0), x.handed(3, 1, 1), both.by(last));
         }
     }
 
-    private static void ill(OtherSide x, Random random) {
+    private static void ill(OtherSide x, int[][] is, Random random) {
         int all = random.nextInt(16);
         int say = random.nextInt(16) & all;
-        Ratio ill = Ratio.of(x.of(0, 9), 100);
-        Ratio well = Ratio.of(100 - x.of(0, 9), 100);
+        Ratio ill = Ratio.of(is[9][0], 100);
+        Ratio well = Ratio.of(100 - is[9][0], 100);
         for (int i = 0; i < 4; i++) {
             if ((all & 1 << i) != 0) {
                 boolean says = (say & 1 << i) != 0;
-                ill = ill.times(Ratio.of(says ? x.of(i, 5) : 12 - x.of(i, 5), 12));
-                well = well.times(Ratio.of(says ? 12 - x.of(i, 6) : x.of(i, 6), 12));
+                ill = ill.times(Ratio.of(says ? is[5][i] : 12 - is[5][i], 12));
+                well = well.times(Ratio.of(says ? 12 - is[6][i] : is[6][i], 12));
             }
         }
         due("ill", x.ill(16 * say + all, 0), x.ill(16 * say + all, 1), ill.by(ill.plus(well)));
     }
 
-    private static void order(OtherSide x) {
+    private static void order(OtherSide x, int[][] is) {
         Ratio least = null;
         int[] best = null;
         for (int n = 0; n < 10000; n++) {
@@ -200,7 +213,7 @@ public final class OddsTest {
                 seen |= 1 << t;
             }
             if (seen == 15) {
-                Ratio mean = mean(x, order);
+                Ratio mean = mean(is, order);
                 if (least == null || mean.compare(least) < 0) {
                     least = mean;
                     best = order;
@@ -214,29 +227,29 @@ public final class OddsTest {
         }
     }
 
-    private static Ratio mean(OtherSide x, int[] order) {
-        Ratio ill = Ratio.of(x.of(0, 9), 100);
-        Ratio well = Ratio.of(100 - x.of(0, 9), 100);
+    private static Ratio mean(int[][] is, int[] order) {
+        Ratio ill = Ratio.of(is[9][0], 100);
+        Ratio well = Ratio.of(100 - is[9][0], 100);
         Ratio mean = Ratio.ZERO;
         for (int t : order) {
-            mean = mean.plus(ill.plus(well).times(Ratio.of(x.of(t, 7), 1)));
-            ill = ill.times(Ratio.of(x.of(t, 5), 12));
-            well = well.times(Ratio.of(12 - x.of(t, 6), 12));
+            mean = mean.plus(ill.plus(well).times(Ratio.of(is[7][t], 1)));
+            ill = ill.times(Ratio.of(is[5][t], 12));
+            well = well.times(Ratio.of(12 - is[6][t], 12));
         }
         return mean;
     }
 
-    private static void witnesses(OtherSide x, Random random) {
+    private static void witnesses(OtherSide x, int[][] is, Random random) {
         int all = random.nextInt(64);
         int say = random.nextInt(64) & all;
-        Ratio so = Ratio.of(x.of(0, 10), 12);
-        Ratio not = Ratio.of(12 - x.of(0, 10), 12);
+        Ratio so = Ratio.of(is[10][0], 12);
+        Ratio not = Ratio.of(12 - is[10][0], 12);
         Ratio allRight = Ratio.ONE;
         Ratio lies = Ratio.ONE;
         for (int i = 0; i < 6; i++) {
             if ((all & 1 << i) != 0) {
-                Ratio lie = Ratio.of(x.of(i, 8), 12);
-                Ratio right = Ratio.of(12 - x.of(i, 8), 12);
+                Ratio lie = Ratio.of(is[8][i], 12);
+                Ratio right = Ratio.of(12 - is[8][i], 12);
                 boolean says = (say & 1 << i) != 0;
                 so = so.times(says ? right : lie);
                 not = not.times(says ? lie : right);
@@ -249,7 +262,7 @@ public final class OddsTest {
         due("tooMany", x.tooMany(all, 0), x.tooMany(all, 1), same);
     }
 
-    private static void sure(OtherSide x) {
+    private static void sure(OtherSide x, int[][] is) {
         int most = 0;
         int[] stakes = {0, 0, 0};
         for (int i = 0; i < 1331; i++) {
@@ -258,7 +271,7 @@ public final class OddsTest {
             for (int outcome = 0; outcome < 3; outcome++) {
                 int loses = 12 * s[outcome];
                 for (int k = 0; k < 3; k++) {
-                    loses -= s[k] * x.of(k, 11);
+                    loses -= s[k] * is[11][k];
                 }
                 least = Math.min(least, loses);
             }
@@ -274,8 +287,8 @@ public final class OddsTest {
     }
 
     private static void next() {
-        OtherSide x = new OtherSide();
         for (int rn = -2; rn < 10100; rn++) {
+            OtherSide x = new OtherSide();
             boolean good = rn >= 0 && rn < 10000 && rn / 100 <= rn % 100;
             Ratio due = Ratio.of(rn / 100 + 1, rn % 100 + 2);
             Check.due("next " + rn, x.next(rn, 0), good ? due.part(0) : NONE);

@@ -51,6 +51,7 @@ public final class ShelvesTest {
         Check.due("of none", x.row(0, 0, 0), 1);
         Check.due("no place", x.element(0, 0), NONE);
         for (int sort = 0; sort < 5; sort++) {
+            x = new OtherSide();
             Check.due("of sixty", x.row(sort, sort, 60), 1);
             for (int i = 0; i < 60; i++) {
                 Check.due("0 at first", x.element(sort, i), 0);

@@ -234,20 +234,17 @@ public final class ShowingsTest {
     }
 
     private static void all(OtherSide x, int cards, Random random) {
-        int[] many = new int[cards];
-        for (int i = 0; i < cards; i++) {
-            many[i] = x.of(i, 0);
-        }
+        Hat hat = new Hat(x);
         int c = random.nextInt(4);
         int d = random.nextInt(4);
         int k = 1 + random.nextInt(4);
-        Ratio shown = likely(x, many, c, 1);
+        Ratio shown = hat.likely(c, 1);
         due("shown", x.shown(c, 0), x.shown(c, 1), shown);
-        due("other", x.other(10 * c + d, 0), x.other(10 * c + d, 1), both(x, many, c, d).by(shown));
-        Ratio times = likely(x, many, c, k);
-        due("again", x.again(10 * c + k, 0), x.again(10 * c + k, 1), likely(x, many, c, k + 1).by(times));
+        due("other", x.other(10 * c + d, 0), x.other(10 * c + d, 1), hat.both(c, d).by(shown));
+        Ratio times = hat.likely(c, k);
+        due("again", x.again(10 * c + k, 0), x.again(10 * c + k, 1), hat.likely(c, k + 1).by(times));
         for (int n = 0; n < cards; n++) {
-            Ratio of = of(x, many, n, c, k).by(times);
+            Ratio of = hat.of(n, c, k).by(times);
             due("which", x.which(n, 10 * c + k, 0), x.which(n, 10 * c + k, 1), of);
         }
         int[] row = new int[random.nextInt(4)];
@@ -258,82 +255,107 @@ public final class ShowingsTest {
         }
         Check.bytes(x, 0, row);
         Check.due("judge", x.judge(0), impossible);
-        Check.due("cheated", x.cheated(0), cheated(x, many, row));
+        Check.due("cheated", x.cheated(0), cheated(x, hat, row));
     }
 
-    private static Ratio side(OtherSide x, int card, int side) {
-        int both = x.weight(card, 0) + x.weight(card, 1);
-        return Ratio.of(x.weight(card, side), both);
-    }
+    /** A hat by what its object tells, asked once: an object has but 512 calls. */
+    private static final class Hat {
+        final int[] many;
+        final int[][] sides;
+        final int[][] weights;
 
-    private static Ratio of(OtherSide x, int[] many, int card, int c, int k) {
-        int all = 0;
-        for (int m : many) {
-            all += m;
+        Hat(OtherSide x) {
+            many = new int[x.count(0)];
+            sides = new int[many.length][];
+            weights = new int[many.length][];
+            for (int i = 0; i < many.length; i++) {
+                many[i] = x.of(i, 0);
+                sides[i] = new int[] {x.of(i, 1), x.of(i, 2)};
+            }
+            weigh(x);
         }
-        Ratio once = Ratio.ZERO;
-        for (int side = 0; side < 2; side++) {
-            if (x.of(card, 1 + side) == c) {
-                once = once.plus(side(x, card, side));
+
+        void weigh(OtherSide x) {
+            for (int i = 0; i < many.length; i++) {
+                weights[i] = new int[] {x.weight(i, 0), x.weight(i, 1)};
             }
         }
-        Ratio r = Ratio.of(many[card], all);
-        for (int i = 0; i < k; i++) {
-            r = r.times(once);
-        }
-        return r;
-    }
 
-    private static Ratio likely(OtherSide x, int[] many, int c, int k) {
-        Ratio r = Ratio.ZERO;
-        for (int i = 0; i < many.length; i++) {
-            r = r.plus(of(x, many, i, c, k));
+        Ratio side(int card, int side) {
+            return Ratio.of(weights[card][side], weights[card][0] + weights[card][1]);
         }
-        return r;
-    }
 
-    private static Ratio both(OtherSide x, int[] many, int c, int d) {
-        int all = 0;
-        for (int m : many) {
-            all += m;
+        Ratio drawn(int card) {
+            int all = 0;
+            for (int m : many) {
+                all += m;
+            }
+            return Ratio.of(many[card], all);
         }
-        Ratio r = Ratio.ZERO;
-        for (int i = 0; i < many.length; i++) {
+
+        Ratio of(int card, int c, int k) {
+            Ratio once = Ratio.ZERO;
             for (int side = 0; side < 2; side++) {
-                if (x.of(i, 1 + side) == c && x.of(i, 2 - side) == d) {
-                    r = r.plus(Ratio.of(many[i], all).times(side(x, i, side)));
+                if (sides[card][side] == c) {
+                    once = once.plus(side(card, side));
                 }
             }
+            Ratio r = drawn(card);
+            for (int i = 0; i < k; i++) {
+                r = r.times(once);
+            }
+            return r;
         }
-        return r;
+
+        Ratio likely(int c, int k) {
+            Ratio r = Ratio.ZERO;
+            for (int i = 0; i < many.length; i++) {
+                r = r.plus(of(i, c, k));
+            }
+            return r;
+        }
+
+        Ratio both(int c, int d) {
+            Ratio r = Ratio.ZERO;
+            for (int i = 0; i < many.length; i++) {
+                for (int side = 0; side < 2; side++) {
+                    if (sides[i][side] == c && sides[i][1 - side] == d) {
+                        r = r.plus(drawn(i).times(side(i, side)));
+                    }
+                }
+            }
+            return r;
+        }
+
+        Ratio product(int[] row) {
+            Ratio r = Ratio.ONE;
+            for (int c : row) {
+                r = r.times(likely(c, 1));
+            }
+            return r;
+        }
     }
 
-    private static int cheated(OtherSide x, int[] many, int[] row) {
-        Ratio most = product(x, many, row);
+    private static int cheated(OtherSide x, Hat hat, int[] row) {
+        Ratio most = hat.product(row);
         int best = OtherSide.NOT;
-        for (int i = 0; i < many.length; i++) {
-            if (many[i] < 9) {
+        for (int i = 0; i < hat.many.length; i++) {
+            if (hat.many[i] < 9) {
                 // One more in deed, so that the law sees it.
-                x.mend(i, 0, many[i] + 1);
+                x.mend(i, 0, hat.many[i] + 1);
             }
-            many[i]++;
-            Ratio r = product(x, many, row);
-            many[i]--;
-            x.mend(i, 0, many[i]);
+            hat.weigh(x);
+            hat.many[i]++;
+            Ratio r = hat.product(row);
+            hat.many[i]--;
+            x.mend(i, 0, hat.many[i]);
             if (r.compare(most) > 0) {
                 most = r;
                 best = i;
             }
         }
+        hat.weigh(x);
         return best;
-    }
-
-    private static Ratio product(OtherSide x, int[] many, int[] row) {
-        Ratio r = Ratio.ONE;
-        for (int c : row) {
-            r = r.times(likely(x, many, c, 1));
-        }
-        return r;
     }
 
     // Nine of each card, the most there can be: all drawn, mended and put back, they are no more.
@@ -354,17 +376,16 @@ public final class ShowingsTest {
                 Check.due("all put back", x.putBack(), 72);
             }
             Check.law(x, run % 3 == 0 ? "" : "a+1;s");
-            int[] many = new int[8];
+            Hat hat = new Hat(x);
             for (int i = 0; i < 8; i++) {
-                many[i] = x.of(i, 0);
-                Check.due("nine of it", many[i], 9);
+                Check.due("nine of it", hat.many[i], 9);
             }
             Check.due("all in the hat", x.of(0, 15), 72);
             int[] row = {random.nextInt(3), random.nextInt(3), random.nextInt(3)};
             Check.bytes(x, 0, row);
-            Check.due("cheated of many", x.cheated(0), cheated(x, many, row));
-            due("shown of many", x.shown(0, 0), x.shown(0, 1), likely(x, many, 0, 1));
-            due("again of many", x.again(4, 0), x.again(4, 1), likely(x, many, 0, 5).by(likely(x, many, 0, 4)));
+            Check.due("cheated of many", x.cheated(0), cheated(x, hat, row));
+            due("shown of many", x.shown(0, 0), x.shown(0, 1), hat.likely(0, 1));
+            due("again of many", x.again(4, 0), x.again(4, 1), hat.likely(0, 5).by(hat.likely(0, 4)));
         }
     }
 }

@@ -19,6 +19,8 @@ public final class WildTest {
         OtherSide x = new OtherSide();
         OtherSide twin = new OtherSide();
         OtherSide plain = new OtherSide();
+        OtherSide looked = new OtherSide();
+        int looks = 0;
         for (int i = 0; i < 512; i++) {
             int call = random.nextInt(CALLS);
             int[] a = {any(random, how), any(random, how), any(random, how), any(random, how), any(random, how)};
@@ -30,11 +32,16 @@ public final class WildTest {
             if (!refused(call, got)) {
                 Check.due("without refused calls " + call, answer(plain, call, a), got);
             }
-            manyAsTheyMayBe(x, call);
+            // An object has but 512 calls: one of its own is looked at, as long as it has some left.
+            if (looks <= 500) {
+                Check.due("one looked at at call " + call, answer(looked, call, a), got);
+                looks += 1 + manyAsTheyMayBe(looked, call);
+            }
         }
     }
 
-    private static void manyAsTheyMayBe(OtherSide x, int call) {
+    /** How many calls that took. */
+    private static int manyAsTheyMayBe(OtherSide x, int call) {
         int cards = x.count(0);
         int all = 0;
         for (int card = 0; card < cards; card++) {
@@ -43,6 +50,7 @@ public final class WildTest {
             Check.due("MANY is 0 to 9 behind call " + call, many >= 0 && many <= 9 ? 1 : 0, 1);
         }
         Check.due("all in the hat behind call " + call, x.of(0, 15), all);
+        return cards + 2;
     }
 
     private static int any(Random random, int how) {
