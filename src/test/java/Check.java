@@ -33,6 +33,15 @@ final class Check {
         due(call + " below", below, wantBelow);
     }
 
+    /** An object with cards by sides and MANY, as card() takes them. */
+    static OtherSide hat(int... cards) {
+        OtherSide x = new OtherSide();
+        for (int abm : cards) {
+            x.card(abm);
+        }
+        return x;
+    }
+
     /** Feeds a text to the tape, which has room for it. */
     static void feed(OtherSide x, String text) {
         for (int i = 0; i < text.length(); i++) {

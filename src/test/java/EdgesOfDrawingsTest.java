@@ -51,17 +51,9 @@ public final class EdgesOfDrawingsTest {
         Check.due(call, got, want);
     }
 
-    private static OtherSide hat(int... cards) {
-        OtherSide x = new OtherSide();
-        for (int abm : cards) {
-            x.card(abm);
-        }
-        return x;
-    }
-
     /** Eight cards, of the first one, of the last eight of it; each card's first side is red (0), the other is not. */
     private static OtherSide eight() {
-        return hat(11, 12, 13, 14, 15, 16, 17, 18);
+        return Check.hat(11, 12, 13, 14, 15, 16, 17, 18);
     }
 
     private static void many(OtherSide x, int... many) {
@@ -90,7 +82,7 @@ public final class EdgesOfDrawingsTest {
 
     private static void oneToSixtyTimes() {
         Check.says(0, "DRAWN: n times (1 .. 60) by a SEED, in thought:");
-        OtherSide x = hat(551);
+        OtherSide x = Check.hat(551);
         int[] none = {LEAST, -1, 0, 61, 62, 1000, MOST};
         for (int n : none) {
             due(n + " times", x.drawn(7, n, 500), BAD);
@@ -105,7 +97,7 @@ public final class EdgesOfDrawingsTest {
         int[] first = {28, 37, 38, 28, 38};
         int[] firstOfThree = {42, 49, 50, 42, 50};
         for (int i = 0; i < SEEDS.length; i++) {
-            OtherSide x = hat(19);
+            OtherSide x = Check.hat(19);
             due("first sides by " + SEEDS[i], x.drawn(SEEDS[i], 60, 0), first[i]);
             due("second sides by " + SEEDS[i], x.drawn(SEEDS[i], 60, 100), 60 - first[i]);
             Check.law(x, "s?1;3");
@@ -123,7 +115,7 @@ public final class EdgesOfDrawingsTest {
             due("draw(" + seeds[i] + ")", x.draw(seeds[i]), sides[i] == 0 ? 1 : 10);
             due("its card", x.of(0, 14), cards[i]);
         }
-        OtherSide last = hat(0, 0, 0, 0, 0, 0, 0, 231);
+        OtherSide last = Check.hat(0, 0, 0, 0, 0, 0, 0, 231);
         due("of the last alone", last.draw(0), 23);
         due("its card", last.of(0, 14), 7);
     }
@@ -137,7 +129,7 @@ public final class EdgesOfDrawingsTest {
             Check.law(x, "s?3;1");
             due("draw(" + seeds[i] + ")", x.draw(seeds[i]), sides[i] == 0 ? 1 : 10);
         }
-        OtherSide never = hat(12);
+        OtherSide never = Check.hat(12);
         Check.law(never, "s");
         due("a first side of weight 0", never.drawn(0, 60, 0), 0);
         due("a first side of weight 0, in deed", never.draw(0), 10);
@@ -148,7 +140,7 @@ public final class EdgesOfDrawingsTest {
 
     private static void aheadOfEachDraw() {
         Check.says(0, "ahead of each draw, of a card and again of its SIDE:");
-        OtherSide x = hat(1, 111, 11);
+        OtherSide x = Check.hat(1, 111, 11);
         int[] once = {1, 1, 0, 1, 1};
         int[] twice = {2, 2, 1, 1, 1};
         int[] sixty = {29, 33, 32, 34, 40};
@@ -162,7 +154,7 @@ public final class EdgesOfDrawingsTest {
 
     private static void howOftenEach() {
         Check.says(0, "how often c is SHOWN; how often d is on the other SIDE then.");
-        OtherSide x = hat(1, 111, 11);
+        OtherSide x = Check.hat(1, 111, 11);
         int[] red = {29, 33, 32, 34, 40};
         int[] redToo = {21, 19, 22, 22, 24};
         for (int i = 0; i < SEEDS.length; i++) {
@@ -191,18 +183,18 @@ public final class EdgesOfDrawingsTest {
 
     private static void inThoughtAlone() {
         Check.says(0, "DRAWN: n times (1 .. 60) by a SEED, in thought:");
-        OtherSide x = hat(1, 111);
+        OtherSide x = Check.hat(1, 111);
         x.drawn(5, 60, 0);
         many(x, 1, 1);
         aside(x, 0, 0);
         led(x, NOT, 0, 0, 0, 0, 0, 0);
         due("no change", x.count(3), 0);
-        due("more often than there are cards", hat(1).drawn(5, 60, 0), 60);
+        due("more often than there are cards", Check.hat(1).drawn(5, 60, 0), 60);
     }
 
     private static void drawnAsOne() {
         Check.says(22, "DRAWN (cdw: 100 c, 10 d and what): c (what 0), d on the other SIDE (1).");
-        OtherSide x = hat(51);
+        OtherSide x = Check.hat(51);
         int red = x.drawn(3, 60, 0);
         due("5 shown", x.drawn(3, 60, 500), 60 - red);
         due("0 shown, 5 behind", x.drawn(3, 60, 51), red);
@@ -213,7 +205,7 @@ public final class EdgesOfDrawingsTest {
 
     private static void drawnOfNone() {
         Check.says(22, "BAD; STATE.");
-        OtherSide x = hat(551);
+        OtherSide x = Check.hat(551);
         int[] none = {LEAST, -551, -100, -10, -1, 2, 3, 9, 12, 60, 61, 90, 160, 502, 552, 560, 561, 590, 600, 601, 1000,
             5551, MOST};
         for (int cdw : none) {
@@ -241,7 +233,7 @@ public final class EdgesOfDrawingsTest {
         many(x, 1, 2, 3, 4, 4, 6, 7, 8);
         aside(x, 0, 0, 0, 0, 1, 0, 0, 0);
         due("in the hat", x.of(0, 15), 35);
-        OtherSide y = hat(9);
+        OtherSide y = Check.hat(9);
         for (int left = 8; left >= 0; left--) {
             due("draw", y.draw(left), 0);
             many(y, left);
@@ -254,18 +246,18 @@ public final class EdgesOfDrawingsTest {
 
     private static void theColourAndTheOther() {
         Check.says(0, "10 times the colour SHOWN, and the other;");
-        OtherSide x = hat(59);
+        OtherSide x = Check.hat(59);
         Check.law(x, "s");
         due("5 shown", x.draw(0), 50);
         Check.law(x, "!s");
         due("5 behind", x.draw(0), 5);
-        due("both 5", hat(551).draw(0), 55);
-        due("both 0", hat(1).draw(0), 0);
+        due("both 5", Check.hat(551).draw(0), 55);
+        due("both 0", Check.hat(1).draw(0), 0);
     }
 
     private static void oneAfterAnother() {
         Check.says(23, "One is drawn in deed.");
-        OtherSide x = hat(1, 111, 221);
+        OtherSide x = Check.hat(1, 111, 221);
         int seen = 0;
         for (int i = 0; i < 3; i++) {
             int got = x.draw(LEAST);
@@ -315,7 +307,7 @@ public final class EdgesOfDrawingsTest {
     private static void putBackNone() {
         Check.says(0, "all are put back.");
         due("no card", new OtherSide().putBack(), 0);
-        OtherSide x = hat(19);
+        OtherSide x = Check.hat(19);
         due("none aside", x.putBack(), 0);
         many(x, 9);
         x.draw(0);
@@ -326,7 +318,7 @@ public final class EdgesOfDrawingsTest {
 
     private static void putBackToNine() {
         Check.says(0, "MANY (0 .. 9: how many of it are in THE HAT).");
-        OtherSide x = hat(9, 119);
+        OtherSide x = Check.hat(9, 119);
         for (int i = 0; i < 18; i++) {
             x.draw(i);
         }
@@ -336,7 +328,7 @@ public final class EdgesOfDrawingsTest {
         many(x, 9, 9);
         aside(x, 0, 0);
         due("in the hat", x.of(0, 15), 18);
-        OtherSide y = hat(9);
+        OtherSide y = Check.hat(9);
         y.draw(0);
         due("done again", y.mend(0, 0, 9), 8);
         due("one aside", y.putBack(), 1);
@@ -345,7 +337,7 @@ public final class EdgesOfDrawingsTest {
 
     private static void ledByColours() {
         Check.says(0, "LED: how often each colour was SHOWN in deed; the latest CARD.");
-        OtherSide x = hat(52, 220);
+        OtherSide x = Check.hat(52, 220);
         led(x, NOT, 0, 0, 0, 0, 0, 0);
         Check.law(x, "s");
         x.draw(0);
@@ -369,7 +361,7 @@ public final class EdgesOfDrawingsTest {
 
     private static void imageOfTheHat() {
         Check.says(25, "AN IMAGE is kept: how many are in THE HAT.");
-        OtherSide x = hat(9, 9, 9, 9, 9, 9, 9, 9);
+        OtherSide x = Check.hat(9, 9, 9, 9, 9, 9, 9, 9);
         due("all", x.image(), 72);
         x.draw(0);
         due("one less", x.image(), 71);
@@ -383,7 +375,7 @@ public final class EdgesOfDrawingsTest {
         due("laid back", x.back(), 0);
         x.card(119);
         due("a card that came since", x.back(), 9);
-        OtherSide y = hat(1);
+        OtherSide y = Check.hat(1);
         y.draw(0);
         due("of an empty hat", y.image(), 0);
         y.putBack();
@@ -393,7 +385,7 @@ public final class EdgesOfDrawingsTest {
 
     private static void imageKeeps() {
         Check.says(0, "AN IMAGE keeps MANY of CARDS, what is laid aside, what LED tells.");
-        OtherSide x = hat(3, 550);
+        OtherSide x = Check.hat(3, 550);
         x.draw(0);
         due("image", x.image(), 2);
         x.draw(0);
@@ -405,7 +397,7 @@ public final class EdgesOfDrawingsTest {
         many(x, 2, 0);
         aside(x, 1, 0);
         led(x, 0, 1, 0, 0, 0, 0, 0);
-        OtherSide y = hat(3);
+        OtherSide y = Check.hat(3);
         y.image();
         y.draw(0);
         due("laid back", y.back(), 3);
@@ -415,7 +407,7 @@ public final class EdgesOfDrawingsTest {
 
     private static void imageKeepsNothingElse() {
         Check.says(0, "AN IMAGE keeps MANY of CARDS, what is laid aside, what LED tells.");
-        OtherSide x = hat(1);
+        OtherSide x = Check.hat(1);
         x.image();
         for (int what = 1; what < 12; what++) {
             x.mend(0, what, 2 + what % 2);
@@ -440,7 +432,7 @@ public final class EdgesOfDrawingsTest {
 
     private static void theLatestImage() {
         Check.says(25, "AN IMAGE is kept:");
-        OtherSide x = hat(9);
+        OtherSide x = Check.hat(9);
         due("nine", x.image(), 9);
         x.draw(0);
         due("eight", x.image(), 8);
@@ -450,7 +442,7 @@ public final class EdgesOfDrawingsTest {
 
     private static void laidBackAgain() {
         Check.says(26, "It is laid back");
-        OtherSide x = hat(19);
+        OtherSide x = Check.hat(19);
         x.draw(0);
         x.image();
         for (int i = 0; i < 3; i++) {
@@ -465,7 +457,7 @@ public final class EdgesOfDrawingsTest {
 
     private static void cardsThatCameSince() {
         Check.says(26, "(CARDS that came since stay as they are): how many are in THE HAT.");
-        OtherSide x = hat(1);
+        OtherSide x = Check.hat(1);
         due("image", x.image(), 1);
         for (int i = 1; i < 8; i++) {
             x.card(119);
@@ -484,7 +476,7 @@ public final class EdgesOfDrawingsTest {
 
     private static void noImage() {
         Check.says(26, "STATE: there is none.");
-        OtherSide x = hat(1);
+        OtherSide x = Check.hat(1);
         due("none", x.back(), STATE);
         x.draw(0);
         due("none behind a deed", x.back(), STATE);
@@ -497,7 +489,7 @@ public final class EdgesOfDrawingsTest {
 
     private static void theLatestFirst() {
         Check.says(0, "can be UNDONE, the latest first,");
-        OtherSide x = hat(123);
+        OtherSide x = Check.hat(123);
         x.mend(0, 0, 9);
         x.mend(0, 3, 5);
         x.mend(0, 0, 7);
@@ -516,7 +508,7 @@ public final class EdgesOfDrawingsTest {
     private static void everyChange() {
         Check.says(0, "CHANGES (MANY, SIDES of CARDS; RED, WHITE of URNS; RIGHT, PRICE of TESTS; LIES; ILL, BEFORE; QUOTES)");
         int[] last = {7, 7, 7, 3, 3, 3, 3, 3, 5, 0, 0, 2};
-        OtherSide x = hat(234, 234, 234, 234, 234, 234, 234, 234);
+        OtherSide x = Check.hat(234, 234, 234, 234, 234, 234, 234, 234);
         for (int what = 0; what < 12; what++) {
             int was = x.of(last[what], what);
             x.mend(last[what], what, 0);
@@ -641,7 +633,7 @@ public final class EdgesOfDrawingsTest {
 
     private static void deedsAreNone() {
         Check.says(0, "deeds are none.");
-        OtherSide x = hat(119);
+        OtherSide x = Check.hat(119);
         Check.bytes(x, 0, 1, 1, 1);
         x.mend(0, 0, 5);
         x.undo();
@@ -663,7 +655,7 @@ public final class EdgesOfDrawingsTest {
 
     private static void behindDeeds() {
         Check.says(27, "UNDONE: how many may still be.");
-        OtherSide x = hat(119);
+        OtherSide x = Check.hat(119);
         x.mend(0, 0, 5);
         x.draw(0);
         x.draw(0);
@@ -680,7 +672,7 @@ public final class EdgesOfDrawingsTest {
 
     private static void undoneOfNone() {
         Check.says(27, "STATE: none.");
-        OtherSide x = hat(1);
+        OtherSide x = Check.hat(1);
         due("none", x.undo(), STATE);
         x.mend(0, 1, 5);
         due("one", x.undo(), 0);
@@ -692,7 +684,7 @@ public final class EdgesOfDrawingsTest {
 
     private static void doneAgainOfNone() {
         Check.says(28, "DONE AGAIN: how many may still be. STATE: none.");
-        OtherSide x = hat(1);
+        OtherSide x = Check.hat(1);
         due("none", x.redo(), STATE);
         x.mend(0, 1, 5);
         due("none undone", x.redo(), STATE);

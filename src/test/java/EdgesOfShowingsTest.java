@@ -44,14 +44,6 @@ public final class EdgesOfShowingsTest {
         Check.due(call, got, want);
     }
 
-    private static OtherSide hat(int... cards) {
-        OtherSide x = new OtherSide();
-        for (int abm : cards) {
-            x.card(abm);
-        }
-        return x;
-    }
-
     private static void shown(OtherSide x, int c, long above, long below) {
         Check.chance("shown(" + c + ")", x.shown(c, 0), x.shown(c, 1), above, below);
     }
@@ -72,18 +64,18 @@ public final class EdgesOfShowingsTest {
 
     private static void eachAsLikely() {
         Check.says(0, "One is drawn (each as likely), one of its SIDES is SHOWN.");
-        OtherSide x = hat(9, 111, 220);
+        OtherSide x = Check.hat(9, 111, 220);
         shown(x, 0, 9, 10);
         shown(x, 1, 1, 10);
         shown(x, 2, 0, 1);
         x.mend(2, 0, 9);
         shown(x, 2, 9, 19);
-        shown(hat(11), 1, 1, 2);
+        shown(Check.hat(11), 1, 1, 2);
     }
 
     private static void partsOfTheLine() {
         Check.says(0, "(part 0 above, 1 below the line)");
-        OtherSide x = hat(1, 112);
+        OtherSide x = Check.hat(1, 112);
         due("above", x.shown(1, 0), 2);
         due("below", x.shown(1, 1), 3);
         due("above", x.other(11, 0), 1);
@@ -96,7 +88,7 @@ public final class EdgesOfShowingsTest {
 
     private static void refusedShowings() {
         Check.says(0, "---- showings (Long.MIN_VALUE: BAD).");
-        OtherSide x = hat(1);
+        OtherSide x = Check.hat(1);
         int[] parts = {LEAST, -1, 2, MOST};
         for (int part : parts) {
             due("shown part " + part, x.shown(0, part), NONE);
@@ -110,7 +102,7 @@ public final class EdgesOfShowingsTest {
 
     private static void lowestTerms() {
         Check.says(0, "Chances are fractions in lowest terms (0 by 1;");
-        OtherSide x = hat(6, 113);
+        OtherSide x = Check.hat(6, 113);
         shown(x, 0, 2, 3);
         shown(x, 1, 1, 3);
         x.mend(0, 0, 3);
@@ -126,7 +118,7 @@ public final class EdgesOfShowingsTest {
 
     private static void noughtByOne() {
         Check.says(0, "Chances are fractions in lowest terms (0 by 1;");
-        OtherSide x = hat(9, 119, 220);
+        OtherSide x = Check.hat(9, 119, 220);
         shown(x, 5, 0, 1);
         other(x, 1, 0, 1);
         which(x, 1, 1, 0, 1);
@@ -139,7 +131,7 @@ public final class EdgesOfShowingsTest {
 
     private static void whatCannotBe() {
         Check.says(0, "0 by 1, too, if what is known cannot be).");
-        OtherSide x = hat(9, 110);
+        OtherSide x = Check.hat(9, 110);
         int[] cannot = {1, 2, 5};
         for (int c : cannot) {
             other(x, 10 * c + c, 0, 1);
@@ -158,18 +150,18 @@ public final class EdgesOfShowingsTest {
 
     private static void shownOfAColour() {
         Check.says(0, "SHOWN: how likely colour c is SHOWN.");
-        OtherSide x = hat(59, 501, 551, 330);
+        OtherSide x = Check.hat(59, 501, 551, 330);
         shown(x, 0, 5, 11);
         shown(x, 5, 6, 11);
         shown(x, 3, 0, 1);
-        OtherSide full = hat(9, 9, 9, 9, 9, 9, 9, 119);
+        OtherSide full = Check.hat(9, 9, 9, 9, 9, 9, 9, 119);
         shown(full, 0, 7, 8);
         shown(full, 1, 1, 8);
     }
 
     private static void shownOfNone() {
         Check.says(9, "SHOWN.");
-        OtherSide x = hat(1);
+        OtherSide x = Check.hat(1);
         int[] none = {LEAST, -1, 6, 7, 255, MOST};
         for (int c : none) {
             due("shown(" + c + ", 0)", x.shown(c, 0), NONE);
@@ -181,7 +173,7 @@ public final class EdgesOfShowingsTest {
 
     private static void otherSide() {
         Check.says(0, "OTHER: how likely the other SIDE is of colour d, c being SHOWN.");
-        OtherSide x = hat(1, 12, 553);
+        OtherSide x = Check.hat(1, 12, 553);
         other(x, 0, 1, 2);
         other(x, 1, 1, 2);
         other(x, 10, 1, 1);
@@ -192,7 +184,7 @@ public final class EdgesOfShowingsTest {
         Check.law(x, "s");
         other(x, 0, 1, 1);
         other(x, 1, 0, 1);
-        OtherSide full = hat(9, 9, 9, 9, 9, 9, 9, 19);
+        OtherSide full = Check.hat(9, 9, 9, 9, 9, 9, 9, 19);
         other(full, 0, 14, 15);
         other(full, 1, 1, 15);
         other(full, 10, 1, 1);
@@ -200,7 +192,7 @@ public final class EdgesOfShowingsTest {
 
     private static void otherByTen() {
         Check.says(10, "OTHER (cd: 10 c and d).");
-        OtherSide x = hat(121, 51);
+        OtherSide x = Check.hat(121, 51);
         other(x, 12, 1, 1);
         other(x, 21, 1, 1);
         other(x, 5, 1, 1);
@@ -211,7 +203,7 @@ public final class EdgesOfShowingsTest {
 
     private static void otherOfNone() {
         Check.says(10, "OTHER (cd: 10 c and d).");
-        OtherSide x = hat(1);
+        OtherSide x = Check.hat(1);
         int[] none = {LEAST, -11, -10, -1, 6, 9, 16, 19, 56, 59, 60, 65, 66, 100, MOST};
         for (int cd : none) {
             due("other(" + cd + ", 0)", x.other(cd, 0), NONE);
@@ -226,7 +218,7 @@ public final class EdgesOfShowingsTest {
     private static void oneToFourTimes() {
         Check.says(0, "CARD: how likely it is CARD n, if of one card drawn colour c is SHOWN each of k times "
             + "(1 .. 4; each time anew by WEIGHTS).");
-        OtherSide x = hat(1, 11);
+        OtherSide x = Check.hat(1, 11);
         for (int k = 1; k <= 4; k++) {
             which(x, 0, k, 1 << k, (1 << k) + 1);
             which(x, 1, k, 1, (1 << k) + 1);
@@ -243,7 +235,7 @@ public final class EdgesOfShowingsTest {
 
     private static void eachTimeAnew() {
         Check.says(0, "(1 .. 4; each time anew by WEIGHTS).");
-        OtherSide x = hat(1, 11);
+        OtherSide x = Check.hat(1, 11);
         Check.law(x, "s?3;1");
         which(x, 0, 1, 4, 5);
         which(x, 0, 2, 16, 17);
@@ -256,7 +248,7 @@ public final class EdgesOfShowingsTest {
 
     private static void whichByTen() {
         Check.says(11, "CARD n (ck: 10 c and k).");
-        OtherSide x = hat(551, 51, 1, 1, 1, 1, 1, 1);
+        OtherSide x = Check.hat(551, 51, 1, 1, 1, 1, 1, 1);
         which(x, 0, 54, 16, 17);
         which(x, 1, 51, 1, 3);
         which(x, 7, 51, 0, 1);
@@ -265,7 +257,7 @@ public final class EdgesOfShowingsTest {
 
     private static void whichOfNone() {
         Check.says(11, "CARD n (ck: 10 c and k).");
-        OtherSide x = hat(1);
+        OtherSide x = Check.hat(1);
         int[] none = {LEAST, -1, 1, 7, 8, MOST};
         for (int n : none) {
             due("which(" + n + ", 1, 0)", x.which(n, 1, 0), NONE);
@@ -286,7 +278,7 @@ public final class EdgesOfShowingsTest {
 
     private static void onceMore() {
         Check.says(0, "AGAIN: how likely c is SHOWN once more then.");
-        OtherSide x = hat(1, 11);
+        OtherSide x = Check.hat(1, 11);
         again(x, 1, 5, 6);
         again(x, 2, 9, 10);
         again(x, 3, 17, 18);
@@ -300,7 +292,7 @@ public final class EdgesOfShowingsTest {
 
     private static void againByTen() {
         Check.says(12, "AGAIN (ck: 10 c and k).");
-        OtherSide x = hat(551, 51);
+        OtherSide x = Check.hat(551, 51);
         again(x, 51, 5, 6);
         again(x, 54, 33, 34);
         again(x, 1, 1, 2);
@@ -310,7 +302,7 @@ public final class EdgesOfShowingsTest {
 
     private static void againOfNone() {
         Check.says(12, "AGAIN (ck: 10 c and k).");
-        OtherSide x = hat(1);
+        OtherSide x = Check.hat(1);
         timesThatAreNone(x, false);
         again(x, 4, 1, 1);
         again(x, 54, 0, 1);
@@ -325,7 +317,7 @@ public final class EdgesOfShowingsTest {
 
     private static void threeColoursAtMost() {
         Check.says(0, "CHEATED: colours SHOWN, 3 at most (a ROW of bytes on a SHELF;");
-        OtherSide x = hat(1, 111);
+        OtherSide x = Check.hat(1, 111);
         due("none", cheated(x), NOT);
         due("one", cheated(x, 1), 1);
         due("two", cheated(x, 1, 1), 1);
@@ -337,56 +329,56 @@ public final class EdgesOfShowingsTest {
 
     private static void eachTimePutBack() {
         Check.says(0, "each time one is drawn, SHOWN, put back):");
-        OtherSide x = hat(1, 113);
+        OtherSide x = Check.hat(1, 113);
         due("not put back, one more would make it less likely", cheated(x, 0, 1, 1), 0);
         due("one of it is shown twice", cheated(x, 0, 0), 0);
-        due("of like chances", cheated(hat(1, 111), 0, 1), NOT);
+        due("of like chances", cheated(Check.hat(1, 111), 0, 1), NOT);
     }
 
     private static void ofAllCards() {
         Check.says(0, "of all CARDS that of which one more in THE HAT makes these most likely");
-        due("of the last", cheated(hat(111, 111, 111, 111, 111, 111, 111, 1), 0), 7);
-        due("none of it as yet", cheated(hat(1, 110), 1), 1);
-        due("nine of it", cheated(hat(9, 119), 1), 1);
-        due("an empty hat", cheated(hat(0, 110), 1, 1, 1), 1);
-        due("both sides of it", cheated(hat(11, 1, 111), 0), 1);
-        due("one side of it", cheated(hat(222, 11, 330), 0), 1);
+        due("of the last", cheated(Check.hat(111, 111, 111, 111, 111, 111, 111, 1), 0), 7);
+        due("none of it as yet", cheated(Check.hat(1, 110), 1), 1);
+        due("nine of it", cheated(Check.hat(9, 119), 1), 1);
+        due("an empty hat", cheated(Check.hat(0, 110), 1, 1, 1), 1);
+        due("both sides of it", cheated(Check.hat(11, 1, 111), 0), 1);
+        due("one side of it", cheated(Check.hat(222, 11, 330), 0), 1);
         due("the law looks at the one more", cheated(lawOfTwo(), 1), 0);
         due("and at one more of another as at first", cheated(lawOfTwo(), 1, 2, 2), 0);
     }
 
     // One more of the first makes two of it, whose second side is shown.
     private static OtherSide lawOfTwo() {
-        OtherSide x = hat(11, 221);
+        OtherSide x = Check.hat(11, 221);
         Check.law(x, "m=2&n=0?s;!s");
         return x;
     }
 
     private static void leastNumberOfLikeOnes() {
         Check.says(0, "(of like ones the least number),");
-        due("two", cheated(hat(1, 111, 111), 1), 1);
-        due("of unlike MANY", cheated(hat(221, 19, 100), 1), 1);
-        due("turned about", cheated(hat(2, 101, 11), 1), 1);
-        due("the better one comes later", cheated(hat(2, 11, 111), 1), 2);
-        due("the better one comes first", cheated(hat(2, 111, 11), 1), 1);
-        due("eight", cheated(hat(0, 0, 0, 0, 0, 0, 0, 0), 0), 0);
+        due("two", cheated(Check.hat(1, 111, 111), 1), 1);
+        due("of unlike MANY", cheated(Check.hat(221, 19, 100), 1), 1);
+        due("turned about", cheated(Check.hat(2, 101, 11), 1), 1);
+        due("the better one comes later", cheated(Check.hat(2, 11, 111), 1), 2);
+        due("the better one comes first", cheated(Check.hat(2, 111, 11), 1), 1);
+        due("eight", cheated(Check.hat(0, 0, 0, 0, 0, 0, 0, 0), 0), 0);
     }
 
     private static void moreLikelyThanTheHatAsItIs() {
         Check.says(0, "if more likely than THE HAT as it is; NOT: none does.");
-        due("as likely", cheated(hat(1), 0), NOT);
-        due("as likely, three", cheated(hat(1), 0, 0, 0), NOT);
-        due("half and half", cheated(hat(11), 0), NOT);
-        due("less likely", cheated(hat(1, 111), 0, 1), NOT);
-        due("of no card", cheated(hat(1, 111), 2), NOT);
-        due("one of no card", cheated(hat(1, 111), 0, 2, 1), NOT);
-        due("a little more likely", cheated(hat(9, 119, 229, 339, 449, 559), 4), 4);
-        due("no cards", cheated(hat(), 0), NOT);
+        due("as likely", cheated(Check.hat(1), 0), NOT);
+        due("as likely, three", cheated(Check.hat(1), 0, 0, 0), NOT);
+        due("half and half", cheated(Check.hat(11), 0), NOT);
+        due("less likely", cheated(Check.hat(1, 111), 0, 1), NOT);
+        due("of no card", cheated(Check.hat(1, 111), 2), NOT);
+        due("one of no card", cheated(Check.hat(1, 111), 0, 2, 1), NOT);
+        due("a little more likely", cheated(Check.hat(9, 119, 229, 339, 449, 559), 4), 4);
+        due("no cards", cheated(Check.hat(), 0), NOT);
     }
 
     private static void cheatedRefusals() {
         Check.says(13, "CHEATED. BAD (also: more than 3 colours, or one that is none), -11, -12 (no ROW of bytes); NOT.");
-        OtherSide x = hat(1, 110);
+        OtherSide x = Check.hat(1, 110);
         int[] shelves = {LEAST, -1, 6, MOST};
         for (int shelf : shelves) {
             due("shelf " + shelf, x.cheated(shelf), BAD);
@@ -413,7 +405,7 @@ public final class EdgesOfShowingsTest {
 
     private static void cheatedNamedFirst() {
         Check.says(13, "BAD (also: more than 3 colours, or one that is none), -11, -12 (no ROW of bytes); NOT.");
-        OtherSide x = hat(1, 110);
+        OtherSide x = Check.hat(1, 110);
         due("four that none makes likely", cheated(x, 0, 0, 0, 0), BAD);
         due("four with one that is none", cheated(x, 0, 0, 0, 9), BAD);
         due("one that is none behind one that cannot be", cheated(x, 5, 6), BAD);
@@ -421,11 +413,11 @@ public final class EdgesOfShowingsTest {
 
     private static void cheatedNone() {
         Check.says(13, "NOT.");
-        due("an empty hat, no card", cheated(hat(), 0, 1), NOT);
-        due("no colour shown, no card", cheated(hat()), NOT);
-        due("no colour shown", cheated(hat(1, 112)), NOT);
-        due("no colour shown, an empty hat", cheated(hat(0)), NOT);
-        OtherSide x = hat(11);
+        due("an empty hat, no card", cheated(Check.hat(), 0, 1), NOT);
+        due("no colour shown, no card", cheated(Check.hat()), NOT);
+        due("no colour shown", cheated(Check.hat(1, 112)), NOT);
+        due("no colour shown, an empty hat", cheated(Check.hat(0)), NOT);
+        OtherSide x = Check.hat(11);
         Check.law(x, "s");
         due("a side that is never shown", cheated(x, 0), NOT);
         due("a side that always is", cheated(x, 1), NOT);
@@ -441,7 +433,7 @@ public final class EdgesOfShowingsTest {
     private static void judgedByPlace() {
         Check.says(0, "JUDGED: the place (from 0) of the first colour of such a ROW (of any length) "
             + "that can't be SHOWN at all; NOT.");
-        OtherSide x = hat(11);
+        OtherSide x = Check.hat(11);
         due("the first", judged(x, 2, 0, 1), 0);
         due("the second", judged(x, 0, 2, 2), 1);
         due("the last", judged(x, 0, 1, 0, 5), 3);
@@ -450,7 +442,7 @@ public final class EdgesOfShowingsTest {
 
     private static void judgedOfAnyLength() {
         Check.says(0, "(of any length)");
-        OtherSide x = hat(1);
+        OtherSide x = Check.hat(1);
         due("of none", judged(x), NOT);
         int[] sixty = new int[60];
         due("of sixty", judged(x, sixty), NOT);
@@ -461,7 +453,7 @@ public final class EdgesOfShowingsTest {
 
     private static void judgedCannotBeShown() {
         Check.says(0, "that can't be SHOWN at all;");
-        OtherSide x = hat(11, 220);
+        OtherSide x = Check.hat(11, 220);
         due("none of it in the hat", judged(x, 0, 1, 2), 2);
         x.mend(1, 0, 1);
         due("one of it in the hat", judged(x, 0, 1, 2), NOT);
@@ -472,12 +464,12 @@ public final class EdgesOfShowingsTest {
         x.mend(0, 0, 0);
         x.mend(1, 0, 0);
         due("an empty hat", judged(x, 1, 0, 2), 0);
-        due("no card", judged(hat(), 0), 0);
+        due("no card", judged(Check.hat(), 0), 0);
     }
 
     private static void judgedNoColour() {
         Check.says(14, "JUDGED (a byte that is no colour can't be SHOWN).");
-        OtherSide x = hat(51);
+        OtherSide x = Check.hat(51);
         int[] none = {-128, -1, 6, 127};
         for (int colour : none) {
             due("byte " + colour, judged(x, 0, 5, colour), 2);
@@ -488,7 +480,7 @@ public final class EdgesOfShowingsTest {
 
     private static void judgedRefusals() {
         Check.says(14, "BAD, -11, -12; NOT.");
-        OtherSide x = hat(1);
+        OtherSide x = Check.hat(1);
         int[] shelves = {LEAST, -1, 6, MOST};
         for (int shelf : shelves) {
             due("shelf " + shelf, x.judge(shelf), BAD);
@@ -507,7 +499,7 @@ public final class EdgesOfShowingsTest {
 
     private static void judgedNone() {
         Check.says(14, "NOT.");
-        due("no card, no colour", judged(hat()), NOT);
-        due("all can be", judged(hat(51), 0, 5, 0, 5), NOT);
+        due("no card, no colour", judged(Check.hat()), NOT);
+        due("all can be", judged(Check.hat(51), 0, 5, 0, 5), NOT);
     }
 }
